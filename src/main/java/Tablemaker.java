@@ -217,6 +217,7 @@ public final class Tablemaker {
 
   public int begin(int kind) throws IllegalArgumentException, IllegalStateException {
     checkKind(kind);
+    prepareTables();
     Table table = tableOf(kind);
     if (table == null || table.clashCount > 0) {
       throw new IllegalStateException("no table, or a clash");
@@ -226,6 +227,7 @@ public final class Tablemaker {
   }
 
   public int step() throws IllegalStateException {
+    prepareTables();
     Table table = reading.isThere ? tableOf(reading.kind) : null;
     if (table == null) {
       throw new IllegalStateException("no reading");
@@ -235,6 +237,7 @@ public final class Tablemaker {
 
   public int read(int kind) throws IllegalArgumentException, IllegalStateException {
     checkKind(kind);
+    prepareTables();
     Table table = tableOf(kind);
     if (table == null || table.clashCount > 0) {
       throw new IllegalStateException("no table, or a clash");
@@ -262,42 +265,20 @@ public final class Tablemaker {
 
   public int ofRule(int rule, int what) throws IndexOutOfBoundsException, IllegalArgumentException {
     checkRule(rule);
-    switch (what) {
-      case 0:
-        return grammar.left(rule);
-      case 1:
-        return grammar.length(rule);
-      case 2:
-        return at(grammar.acts, rule);
-      case 3:
-        return grammar.rankOfRule(rule);
-      case 4:
-        prepareFacts();
-        return facts.isUseful(rule) ? 1 : 0;
-      default:
-        throw new IllegalArgumentException("no such question");
+    if (!isBelow(what, 5)) {
+      throw new IllegalArgumentException("no such question");
     }
+    prepareFacts();
+    return answerOfRule(rule, what);
   }
 
   public int ofVariable(int variable, int what) throws IllegalArgumentException {
     checkVariable(variable);
-    prepareFacts();
-    switch (what) {
-      case 0:
-        return has(facts.growing, variable) ? 1 : 0;
-      case 1:
-        return has(facts.reached, variable) ? 1 : 0;
-      case 2:
-        return has(facts.hollow, variable) ? 1 : 0;
-      case 3:
-        return at(facts.firsts, SIGNS + variable);
-      case 4:
-        return at(facts.follows, variable);
-      case 5:
-        return grammar.rulesOf(variable);
-      default:
-        throw new IllegalArgumentException("no such question");
+    if (!isBelow(what, 6)) {
+      throw new IllegalArgumentException("no such question");
     }
+    prepareFacts();
+    return answerOfVariable(variable, what);
   }
 
   public String shortest(int variable) throws IllegalArgumentException {
@@ -318,11 +299,13 @@ public final class Tablemaker {
 
   public int states(int kind) throws IllegalArgumentException {
     checkKind(kind);
+    prepareTables();
     Table table = tableOf(kind);
     return table == null ? MANY : table.own.count;
   }
 
   public String state(int kind, int state) throws IndexOutOfBoundsException {
+    prepareTables();
     Table table = checkedTable(kind, state);
     page.setLength(0);
     if (table != null) {
@@ -333,6 +316,7 @@ public final class Tablemaker {
 
   public int action(int kind, int state, int sign)
       throws IndexOutOfBoundsException, IllegalArgumentException {
+    prepareTables();
     Table table = checkedTable(kind, state);
     if (!isBelow(sign, LOOKS)) {
       throw new IllegalArgumentException("no such sign");
@@ -342,48 +326,40 @@ public final class Tablemaker {
 
   public int goes(int kind, int state, int variable)
       throws IndexOutOfBoundsException, IllegalArgumentException {
+    prepareTables();
     Table table = checkedTable(kind, state);
     checkVariable(variable);
     return table == null ? NONE : table.own.move(state, SIGNS + variable);
   }
 
   public int looks(int kind, int state, int rule) throws IndexOutOfBoundsException {
+    prepareTables();
     Table table = checkedTable(kind, state);
     checkRule(rule);
     return table == null ? 0 : table.looksOf(grammar, state, rule);
   }
 
   public int clashes(int kind) throws IllegalArgumentException, IllegalStateException {
+    prepareTables();
     Table table = tableThatIsThere(kind);
     return table == null ? 0 : table.clashCount;
   }
 
   public int clash(int kind, int nth, int what)
       throws IllegalArgumentException, IllegalStateException, IndexOutOfBoundsException {
+    prepareTables();
     Table table = tableThatIsThere(kind);
     if (table == null || !isBelow(nth, table.clashCount)) {
       throw new IndexOutOfBoundsException("no such clash");
     }
-    int spot = table.spotOfClash(nth);
-    int state = spot / LOOKS;
-    int sign = spot % LOOKS;
-    switch (what) {
-      case 0:
-        return state;
-      case 1:
-        return sign;
-      case 2:
-        return table.countActions(state, sign);
-      case 3:
-        return table.shiftAt(state, sign);
-      case 4:
-        return lowestRule(table.reducesAt(state, sign));
-      default:
-        throw new IllegalArgumentException("no such question");
+    if (!isBelow(what, 5)) {
+      throw new IllegalArgumentException("no such question");
     }
+    return table.answerOfClash(nth, what);
   }
 
   public String beginning(int kind, int state) throws IndexOutOfBoundsException {
+    prepareTables();
     Table table = checkedTable(kind, state);
     page.setLength(0);
     if (table != null) {
@@ -394,18 +370,12 @@ public final class Tablemaker {
   }
 
   public int ofTable(int kind, int what) throws IllegalArgumentException, IllegalStateException {
+    prepareTables();
     Table table = tableThatIsThere(kind);
     if (table == null || !isBelow(what, 3)) {
       throw new IllegalArgumentException("no such question");
     }
-    switch (what) {
-      case 0:
-        return table.settledCount;
-      case 1:
-        return table.countRows();
-      default:
-        return table.countPlainActions();
-    }
+    return table.answerOfAll(what);
   }
 
   // ---- what is asked of the reading
@@ -463,33 +433,26 @@ public final class Tablemaker {
 
   public int mend() {
     prepareFacts();
-    int cost = chart.fill(grammar, facts, signs, signCount, false);
-    return cost >= Chart.FAR ? NONE : cost;
+    return leastMending();
   }
 
   public int trees() {
     prepareFacts();
-    if (facts.hasCircle) {
-      return RING;
-    }
-    int count = chart.fill(grammar, facts, signs, signCount, true);
-    return count > MOST_TREES ? MANY : count;
+    return countTrees();
   }
 
   public int sentences(int length) throws IllegalArgumentException {
     checkLength(length);
+    prepareFacts();
     prepareCensus();
-    int many = 0;
-    for (int text = Census.firstOf(length); text < Census.firstOf(length + 1); text++) {
-      many += census.isSentence(text) ? 1 : 0;
-    }
-    return many;
+    return census.countSentences(length);
   }
 
   public String sentence(int nth) throws IllegalArgumentException {
     if (nth < 0) {
       throw new IllegalArgumentException("below 0");
     }
+    prepareFacts();
     prepareCensus();
     int ahead = nth;
     for (int text = 0; text < Census.TEXTS; text++) {
@@ -505,64 +468,47 @@ public final class Tablemaker {
 
   public String twin(int length) throws IllegalArgumentException {
     checkLength(length);
+    prepareFacts();
+    prepareCensus();
     return pageOf(findTwin(length));
   }
 
   public String differ(int length) throws IllegalArgumentException {
     checkLength(length);
+    prepareFacts();
+    prepareCensus();
+    prepareShelfCensus();
     return pageOf(findDifference(length));
   }
 
   // ---- all of it
 
   public int house(int what) throws IllegalArgumentException {
-    switch (what) {
-      case 0:
-        return grammar.count;
-      case 1:
-        prepareFacts();
-        return Integer.bitCount(facts.useful);
-      case 2:
-        return signCount;
-      case 3:
-        return history.count;
-      case 4:
-        return shelf.count;
-      case 5:
-        return reading.isThere ? 1 : 0;
-      case 6:
-        return reading.isThere ? reading.place : NONE;
-      case 7:
-        return reading.isThere ? reading.stepCount : 0;
-      case 8:
-        return knocks;
-      default:
-        throw new IllegalArgumentException("no such question");
+    if (!isBelow(what, 9)) {
+      throw new IllegalArgumentException("no such question");
     }
+    prepareFacts();
+    return answerOfHouse(what);
   }
 
   public boolean isSound() {
     prepareTables();
     prepareCensus();
-    return boundsHold() && tablesReadRight() && coresAgree() && nextsAgree();
+    return allHolds();
   }
 
   public long digest() {
+    prepareTables();
     prepareBeginnings();
+    prepareCensus();
+    prepareShelfCensus();
     long d = mixGrammar(6105);
     for (int kind = 0; kind < KINDS; kind++) {
       d = mixTable(d, kind);
     }
     d = mixReading(d);
-    d = mix(d, nexts(signCount));
-    d = mix(d, mend());
-    d = mix(d, trees());
-    for (int length = 0; length < MOST_CENSUS; length++) {
-      d = mix(d, sentences(length));
-    }
-    d = mix(d, lengthOfText(findTwin(2)));
-    d = mix(d, lengthOfText(findDifference(2)));
-    return mix(d, isSound() ? 1 : 0);
+    d = mixTexts(d);
+    return mix(d, allHolds() ? 1 : 0);
   }
 
   // ---- checks
@@ -608,12 +554,11 @@ public final class Tablemaker {
     return table;
   }
 
-  /** The table of a kind, or null if it is not there. */
+  /** The table of a kind, or null if it is not there; tables are prepared ahead of this. */
   private Table tableOf(int kind) {
     if (!isBelow(kind, tables.length)) {
       return null;
     }
-    prepareTables();
     return kind >= 2 && looking.isPassed ? null : tables[kind];
   }
 
@@ -630,7 +575,7 @@ public final class Tablemaker {
   }
 
   private void prepareTables() {
-    prepareFacts();
+    facts.refresh(edition, grammar);
     plain.refresh(edition, facts);
     looking.refresh(edition, facts);
     for (int kind = 0; kind < KINDS; kind++) {
@@ -642,7 +587,6 @@ public final class Tablemaker {
   }
 
   private void prepareBeginnings() {
-    prepareTables();
     shorts.refresh(edition, grammar, facts);
     plain.beginnings.refresh(edition, plain, shorts);
     if (!looking.isPassed) {
@@ -651,8 +595,69 @@ public final class Tablemaker {
   }
 
   private void prepareCensus() {
-    prepareFacts();
     census.refresh(edition, grammar, facts);
+  }
+
+  private void prepareShelfCensus() {
+    shelfFacts.refresh(edition, shelf);
+    shelfCensus.refresh(edition, shelf, shelfFacts);
+  }
+
+  // ---- answers to numbered questions, when all is prepared
+
+  private int answerOfRule(int rule, int what) {
+    switch (what) {
+      case 0:
+        return grammar.left(rule);
+      case 1:
+        return grammar.length(rule);
+      case 2:
+        return at(grammar.acts, rule);
+      case 3:
+        return grammar.rankOfRule(rule);
+      default:
+        return facts.isUseful(rule) ? 1 : 0;
+    }
+  }
+
+  private int answerOfVariable(int variable, int what) {
+    switch (what) {
+      case 0:
+        return has(facts.growing, variable) ? 1 : 0;
+      case 1:
+        return has(facts.reached, variable) ? 1 : 0;
+      case 2:
+        return has(facts.hollow, variable) ? 1 : 0;
+      case 3:
+        return at(facts.firsts, SIGNS + variable);
+      case 4:
+        return at(facts.follows, variable);
+      default:
+        return grammar.rulesOf(variable);
+    }
+  }
+
+  private int answerOfHouse(int what) {
+    switch (what) {
+      case 0:
+        return grammar.count;
+      case 1:
+        return Integer.bitCount(facts.useful);
+      case 2:
+        return signCount;
+      case 3:
+        return history.count;
+      case 4:
+        return shelf.count;
+      case 5:
+        return reading.isThere ? 1 : 0;
+      case 6:
+        return reading.isThere ? reading.place : NONE;
+      case 7:
+        return reading.isThere ? reading.stepCount : 0;
+      default:
+        return knocks;
+    }
   }
 
   // ---- typing
@@ -697,10 +702,22 @@ public final class Tablemaker {
     signCount = countBehind(order, signCount);
   }
 
-  // ---- short texts
+  // ---- texts, when all is prepared
+
+  private int leastMending() {
+    int cost = chart.fill(grammar, facts, signs, signCount, false);
+    return cost >= Chart.FAR ? NONE : cost;
+  }
+
+  private int countTrees() {
+    if (facts.hasCircle) {
+      return RING;
+    }
+    int count = chart.fill(grammar, facts, signs, signCount, true);
+    return count > MOST_TREES ? MANY : count;
+  }
 
   private int findTwin(int length) {
-    prepareCensus();
     if (facts.hasCircle) {
       return NONE;
     }
@@ -713,9 +730,6 @@ public final class Tablemaker {
   }
 
   private int findDifference(int length) {
-    prepareCensus();
-    shelfFacts.refresh(edition, shelf);
-    shelfCensus.refresh(edition, shelf, shelfFacts);
     for (int text = 0; text < Census.firstOf(length + 1); text++) {
       if (census.isSentence(text) != shelfCensus.isSentence(text)) {
         return text;
@@ -742,6 +756,10 @@ public final class Tablemaker {
 
   // ---- soundness
 
+  private boolean allHolds() {
+    return boundsHold() && tablesReadRight() && coresAgree() && nextsAgree();
+  }
+
   private boolean boundsHold() {
     return grammar.count <= MOST_RULES && shelf.count <= MOST_RULES && signCount <= MOST_SIGNS
         && history.count <= MOST_UNDONE && reading.stepCount <= MOST_STEPS;
@@ -749,7 +767,7 @@ public final class Tablemaker {
 
   private boolean tablesReadRight() {
     for (int kind = 0; kind < KINDS; kind++) {
-      Table table = kind >= 2 && looking.isPassed ? null : tables[kind];
+      Table table = tableOf(kind);
       if (table != null && table.clashCount == 0 && table.settledCount == 0
           && !readsRight(table)) {
         return false;
@@ -811,32 +829,32 @@ public final class Tablemaker {
   private long mixGrammar(long start) {
     long d = start;
     for (int what = 0; what <= 8; what++) {
-      d = mix(d, house(what));
+      d = mix(d, answerOfHouse(what));
     }
     for (int rule = 0; rule < grammar.count; rule++) {
       for (int what = 0; what <= 4; what++) {
-        d = mix(d, ofRule(rule, what));
+        d = mix(d, answerOfRule(rule, what));
       }
     }
     for (int variable = 0; variable < VARIABLES; variable++) {
       for (int what = 0; what <= 5; what++) {
-        d = mix(d, ofVariable(variable, what));
+        d = mix(d, answerOfVariable(variable, what));
       }
       d = mix(d, shorts.shownLength(variable));
     }
-    return mix(d, hasRing() ? 1 : 0);
+    return mix(d, facts.hasCircle ? 1 : 0);
   }
 
   private long mixTable(long start, int kind) {
-    Table table = kind >= 2 && looking.isPassed ? null : tables[kind];
+    Table table = tableOf(kind);
     if (table == null) {
       return mix(start, MANY);
     }
     long d = mix(start, table.own.count);
     d = mix(d, table.clashCount);
-    d = mix(d, table.settledCount);
-    d = mix(d, table.countRows());
-    d = mix(d, table.countPlainActions());
+    for (int what = 0; what <= 2; what++) {
+      d = mix(d, table.answerOfAll(what));
+    }
     for (int state = 0; state < table.own.count; state++) {
       page.setLength(0);
       table.own.write(page, grammar, state);
@@ -856,11 +874,22 @@ public final class Tablemaker {
     page.setLength(0);
     reading.writeTree(page, grammar);
     d = mix(d, page.length());
-    d = mix(d, value());
+    d = mix(d, reading.worth(grammar, signs));
     page.setLength(0);
     reading.writeDerivation(page);
     d = mix(d, page.length());
-    return mix(d, shared());
+    return mix(d, reading.countShared());
+  }
+
+  private long mixTexts(long start) {
+    long d = mix(start, prefixes.behind(facts, signs, signCount));
+    d = mix(d, leastMending());
+    d = mix(d, countTrees());
+    for (int length = 0; length < MOST_CENSUS; length++) {
+      d = mix(d, census.countSentences(length));
+    }
+    d = mix(d, lengthOfText(findTwin(2)));
+    return mix(d, lengthOfText(findDifference(2)));
   }
 
   // ---- rows, sets and letters
@@ -958,7 +987,7 @@ public final class Tablemaker {
     }
 
     int variable(int rule, int place) {
-      return symbol(rule, place) - SIGNS;
+      return rule < 0 ? 0 : at(rights, rule * MOST_RIGHT + place) - SIGNS;
     }
 
     int rankOfRule(int rule) {
@@ -1180,9 +1209,9 @@ public final class Tablemaker {
       return has(useful, rule);
     }
 
-    /** Whether all symbols of a right side from one place on are variables of a set. */
-    private static boolean allIn(Grammar grammar, int rule, int from, int set) {
-      for (int place = from; place < grammar.length(rule); place++) {
+    /** Whether all symbols of a right side are variables of a set. */
+    private static boolean allIn(Grammar grammar, int rule, int set) {
+      for (int place = 0; place < grammar.length(rule); place++) {
         int variable = grammar.variable(rule, place);
         if (variable < 0 || !has(set, variable)) {
           return false;
@@ -1238,7 +1267,7 @@ public final class Tablemaker {
       hollow = 0;
       for (int round = 0; round < VARIABLES; round++) {
         for (int rule = 0; rule < grammar.count; rule++) {
-          if (isUseful(rule) && allIn(grammar, rule, 0, hollow)) {
+          if (isUseful(rule) && allIn(grammar, rule, hollow)) {
             hollow |= 1 << grammar.left(rule);
           }
         }
@@ -1300,7 +1329,7 @@ public final class Tablemaker {
       for (int rule = 0; rule < grammar.count; rule++) {
         for (int place = 0; place < grammar.length(rule); place++) {
           int variable = grammar.variable(rule, place);
-          if (isUseful(rule) && variable >= 0 && restIsHollow(grammar, rule, place)) {
+          if (isUseful(rule) && variable >= 0 && othersAreHollow(grammar, rule, place)) {
             put(alone, grammar.left(rule), at(alone, grammar.left(rule)) | 1 << variable);
           }
         }
@@ -1316,14 +1345,14 @@ public final class Tablemaker {
       }
     }
 
-    private boolean restIsHollow(Grammar grammar, int rule, int but) {
-      for (int place = 0; place < but; place++) {
+    private boolean othersAreHollow(Grammar grammar, int rule, int but) {
+      for (int place = 0; place < grammar.length(rule); place++) {
         int variable = grammar.variable(rule, place);
-        if (variable < 0 || !has(hollow, variable)) {
+        if (place != but && (variable < 0 || !has(hollow, variable))) {
           return false;
         }
       }
-      return allIn(grammar, rule, but + 1, hollow);
+      return true;
     }
 
     private void findItems(Grammar grammar) {
@@ -1388,7 +1417,9 @@ public final class Tablemaker {
           findBest(grammar, facts);
           if (bestVariable != NONE) {
             put(lengths, bestVariable, bestLength);
-            copy(best, 0, texts, bestVariable * MOST_SHORT, bestLength);
+            for (int i = 0; i < bestLength; i++) {
+              put(texts, bestVariable * MOST_SHORT + i, at(best, i));
+            }
           }
         }
       }
@@ -1402,7 +1433,7 @@ public final class Tablemaker {
             && compose(grammar, rule) && (bestVariable == NONE || draftIsAhead())) {
           bestVariable = grammar.left(rule);
           bestLength = draftLength;
-          copy(draft, 0, best, 0, draftLength);
+          System.arraycopy(draft, 0, best, 0, MOST_SHORT);
         }
       }
     }
@@ -1445,15 +1476,12 @@ public final class Tablemaker {
     void copyText(int symbol, int[] to, int place) {
       if (symbol < SIGNS) {
         put(to, place, symbol);
-      } else {
-        copy(texts, (symbol - SIGNS) * MOST_SHORT, to, place, lengthOf(symbol));
+        return;
       }
-    }
-
-    private static void copy(int[] from, int start, int[] to, int place, int length) {
-      if (length > 0 && start >= 0 && place >= 0 && length <= from.length - start
-          && length <= to.length - place) {
-        System.arraycopy(from, start, to, place, length);
+      int start = (symbol - SIGNS) * MOST_SHORT;
+      int length = at(lengths, symbol - SIGNS);
+      for (int i = 0; i < length; i++) {
+        put(to, place + i, at(texts, start + i));
       }
     }
 
@@ -1514,6 +1542,14 @@ public final class Tablemaker {
 
     boolean isSentence(int text) {
       return at(counts, SIGNS * TEXTS + text) > 0;
+    }
+
+    int countSentences(int length) {
+      int many = 0;
+      for (int text = firstOf(length); text < firstOf(length + 1); text++) {
+        many += isSentence(text) ? 1 : 0;
+      }
+      return many;
     }
 
     boolean isTwin(int text) {
@@ -1597,7 +1633,6 @@ public final class Tablemaker {
 
     private boolean isCounting;
     private int size;
-    private int[] signs;
     private final int[] wholes = new int[VARIABLES * SPANS];
     private final int[] parts = new int[MOST_RULES * DOTS * SPANS];
     private final int[] nearest = new int[SIGNS * SPOTS];
@@ -2180,18 +2215,20 @@ public final class Tablemaker {
     }
 
     private boolean accepts(int state, int sign) {
-      return sign == END && (own.core(state) & LAST_ITEM) != 0;
+      // The first rule's look is END, and that is the last layer.
+      int place = state * own.layers + own.layers - 1;
+      return sign == END && (longAt(own.kernels, place) & LAST_ITEM) != 0;
     }
 
-    int shiftAt(int state, int sign) {
-      return sign == END ? NONE : own.move(state, sign);
+    private int shiftAt(int state, int sign) {
+      return sign == END ? NONE : at(own.moves, state * SYMBOLS + sign);
     }
 
-    long reducesAt(int state, int sign) {
+    private long reducesAt(int state, int sign) {
       return longAt(reduces, state * LOOKS + sign);
     }
 
-    int countActions(int state, int sign) {
+    private int countActions(int state, int sign) {
       return Long.bitCount(reducesAt(state, sign)) + (shiftAt(state, sign) != NONE ? 1 : 0)
           + (accepts(state, sign) ? 1 : 0);
     }
@@ -2209,8 +2246,37 @@ public final class Tablemaker {
       return set;
     }
 
+    int answerOfClash(int nth, int what) {
+      int spot = spotOfClash(nth);
+      int state = spot / LOOKS;
+      int sign = spot % LOOKS;
+      switch (what) {
+        case 0:
+          return state;
+        case 1:
+          return sign;
+        case 2:
+          return countActions(state, sign);
+        case 3:
+          return shiftAt(state, sign);
+        default:
+          return lowestRule(reducesAt(state, sign));
+      }
+    }
+
+    int answerOfAll(int what) {
+      switch (what) {
+        case 0:
+          return settledCount;
+        case 1:
+          return countRows();
+        default:
+          return countPlainActions();
+      }
+    }
+
     /** Where a clash is: six times its state, and its sign. */
-    int spotOfClash(int nth) {
+    private int spotOfClash(int nth) {
       int ahead = nth;
       for (int spot = 0; spot < own.count * LOOKS; spot++) {
         if (at(actions, spot) == CLASH) {
@@ -2223,7 +2289,7 @@ public final class Tablemaker {
       return 0;
     }
 
-    int countRows() {
+    private int countRows() {
       int many = 0;
       for (int state = 0; state < own.count; state++) {
         boolean isNew = true;
@@ -2244,7 +2310,7 @@ public final class Tablemaker {
       return true;
     }
 
-    int countPlainActions() {
+    private int countPlainActions() {
       int many = 0;
       for (int spot = 0; spot < own.count * LOOKS; spot++) {
         many += at(actions, spot) == NONE || at(actions, spot) == CLASH ? 0 : 1;
