@@ -64,11 +64,10 @@ public final class Tablemaker {
   private final Reading reading = new Reading();
   private final Reading trial = new Reading();
   private final Facts facts = new Facts();
-  private final Facts shelfFacts = new Facts();
   private final Census census = new Census();
   private final Census shelfCensus = new Census();
-  private final Automaton plain = new Automaton(1, FIRST_STATES, MOST_STATES);
-  private final Automaton looking = new Automaton(LOOKS, MOST_LOOKING, MOST_LOOKING);
+  private final Automaton plain;
+  private final Automaton looking;
   private final Table[] tables = new Table[KINDS];
   private final Shorts shorts = new Shorts();
   private final Chart chart = new Chart();
@@ -78,10 +77,14 @@ public final class Tablemaker {
   private int knocks;
 
   public Tablemaker() {
-    tables[0] = new Table(0, plain);
-    tables[1] = new Table(1, plain);
-    tables[2] = new Table(2, plain);
-    tables[3] = new Table(3, looking);
+    Automaton withoutLooks = new Automaton(1, FIRST_STATES, MOST_STATES);
+    Automaton withLooks = new Automaton(LOOKS, MOST_LOOKING, MOST_LOOKING);
+    plain = withoutLooks;
+    looking = withLooks;
+    tables[0] = new Table(0, withoutLooks);
+    tables[1] = new Table(1, withoutLooks);
+    tables[2] = new Table(2, withoutLooks);
+    tables[3] = new Table(3, withLooks);
   }
 
   // ---- the grammar
@@ -454,16 +457,7 @@ public final class Tablemaker {
     }
     prepareFacts();
     prepareCensus();
-    int ahead = nth;
-    for (int text = 0; text < Census.TEXTS; text++) {
-      if (census.isSentence(text)) {
-        if (ahead == 0) {
-          return pageOf(text);
-        }
-        ahead--;
-      }
-    }
-    return pageOf(NONE);
+    return pageOf(census.findSentence(nth));
   }
 
   public String twin(int length) throws IllegalArgumentException {
@@ -595,12 +589,11 @@ public final class Tablemaker {
   }
 
   private void prepareCensus() {
-    census.refresh(edition, grammar, facts);
+    census.refresh(edition, grammar);
   }
 
   private void prepareShelfCensus() {
-    shelfFacts.refresh(edition, shelf);
-    shelfCensus.refresh(edition, shelf, shelfFacts);
+    shelfCensus.refresh(edition, shelf);
   }
 
   // ---- answers to numbered questions, when all is prepared
@@ -952,7 +945,7 @@ public final class Tablemaker {
   }
 
   private static long itemBit(int rule, int dot) {
-    return 1L << (rule + 1) * DOTS + dot;
+    return 1L << ((rule + 1) * DOTS + dot);
   }
 
   private static int lowestRule(long items) {
@@ -1497,7 +1490,8 @@ public final class Tablemaker {
 
   /**
    * How many trees the texts of at most three signs have, for each symbol: 0, 1, or 2 for more.
-   * Texts are numbered by their order.
+   * Texts are numbered by their order. All rules may count here: one that is not useful stands in
+   * no tree for A.
    */
   private static final class Census {
     private static final int TEXTS = 156;
@@ -1544,6 +1538,19 @@ public final class Tablemaker {
       return at(counts, SIGNS * TEXTS + text) > 0;
     }
 
+    int findSentence(int nth) {
+      int ahead = nth;
+      for (int text = 0; text < TEXTS; text++) {
+        if (isSentence(text)) {
+          if (ahead == 0) {
+            return text;
+          }
+          ahead--;
+        }
+      }
+      return NONE;
+    }
+
     int countSentences(int length) {
       int many = 0;
       for (int text = firstOf(length); text < firstOf(length + 1); text++) {
@@ -1556,7 +1563,7 @@ public final class Tablemaker {
       return at(counts, SIGNS * TEXTS + text) >= ENOUGH;
     }
 
-    void refresh(int now, Grammar grammar, Facts facts) {
+    void refresh(int now, Grammar grammar) {
       if (edition != now) {
         edition = now;
         Arrays.fill(counts, 0);
@@ -1565,7 +1572,7 @@ public final class Tablemaker {
         }
         for (int text = 0; text < TEXTS; text++) {
           findParts(text);
-          countTrees(grammar, facts, text);
+          countTrees(grammar, text);
         }
       }
     }
@@ -1581,14 +1588,14 @@ public final class Tablemaker {
       }
     }
 
-    private void countTrees(Grammar grammar, Facts facts, int text) {
+    private void countTrees(Grammar grammar, int text) {
       boolean changed = true;
       for (int round = 0; round < MOST_ROUNDS && changed; round++) {
         changed = false;
         for (int variable = 0; variable < VARIABLES; variable++) {
           int total = 0;
           for (int rule = 0; rule < grammar.count; rule++) {
-            if (grammar.left(rule) == variable && facts.isUseful(rule)) {
+            if (grammar.left(rule) == variable) {
               total += countWays(grammar, rule, lengthOf(text));
             }
           }
