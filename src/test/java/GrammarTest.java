@@ -168,6 +168,12 @@ public final class GrammarTest {
     CHECK.due("a change", y.house(3), 4);
     y.undo();
     CHECK.due("undone", Check.rules(y), "B>Bb B>cA A>a");
+    CHECK.due("a left is used, also the first", Check.grammar("B>b A>Aa A>b").turn(0), 2);
+    CHECK.due("a right is used, also the first", Check.grammar("A>BC A>Aa A>b").turn(0), 3);
+    CHECK.due("the last symbol is used", Check.grammar("A>Aa A>b A>aaaB D>cccC").turn(0), -4);
+    Tablemaker dropped = Check.grammar("A>aaaB A>Aa A>b");
+    dropped.drop(0);
+    CHECK.due("what was dropped is not used", dropped.turn(0), 1);
     Tablemaker z = Check.grammar("C>Caaa C>aaa");
     CHECK.due("never A", z.turn(2), 1);
     CHECK.due("rules", Check.rules(z), "B>aaaB C>aaaB B>");

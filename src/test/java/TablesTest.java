@@ -126,10 +126,15 @@ public final class TablesTest {
     CHECK.due("neither has", half.action(1, 6, 3), -3);
     CHECK.due("both are c", half.action(1, 5, 2), -10);
     CHECK.due("the sign has none", half.action(1, 5, 3), -3);
-    Tablemaker three = Check.grammar("A>AcA A>e B>BcA A>AcB B>e");
-    three.rank(2, 1, 0);
-    three.rank(4, 1, 0);
-    CHECK.due("two reduces are not settled", three.clashes(1) > 0, true);
+    Tablemaker three = Check.grammar("A>a A>B B>a B>aa");
+    three.rank(0, 1, 0);
+    int state = three.action(0, 0, 0);
+    CHECK.due("three actions are not settled", three.action(0, state, 0), -3);
+    CHECK.due("two reduces are not settled", three.action(0, state, 1), -3);
+    CHECK.due("none of these", three.ofTable(0, 0), 0);
+    Tablemaker end = Check.grammar("A>A A>Ab A>b");
+    end.rank(1, 1, 0);
+    CHECK.due("no rank settles at the end", end.action(1, end.goes(1, 0, 0), 5), -3);
     Tablemaker empty = Check.grammar("A>BaA A>b B> A>a");
     empty.rank(0, 1, 0);
     CHECK.due("an empty rule has no rank", empty.action(1, 0, 0), -3);
@@ -236,6 +241,8 @@ public final class TablesTest {
     CHECK.due("fewer signs, then as in a dictionary", y.beginning(0, y.goes(0, 0, 1)), "ce");
     int behind = y.action(0, y.goes(0, 0, 1), 2);
     CHECK.due("what is hollow adds nothing", y.beginning(0, y.goes(0, behind, 2)), "cec");
+    Tablemaker ties = Check.grammar("A>aBb A>bBa A>BBc B>ac B>ab B>d");
+    CHECK.due("ties go by letters", ties.beginning(0, ties.goes(0, ties.action(0, 0, 1), 1)), "bd");
     Tablemaker two = Check.grammar("A>bBc A>aCc B>ae C>e C>Bd");
     CHECK.due("two ways, one shorter", two.beginning(0, two.goes(0, two.action(0, 0, 0), 1)), "aae");
     Tablemaker large = Check.grammar("E>BBBB A>DaC A>DDDD C>EEEE B>BA B>AaB B>CCCC A>AEc B>AAAA D>dade");
