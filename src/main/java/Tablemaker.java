@@ -219,12 +219,8 @@ public final class Tablemaker {
   }
 
   public int begin(int kind) throws IllegalArgumentException, IllegalStateException {
-    checkKind(kind);
     prepareTables();
-    Table table = tableOf(kind);
-    if (table == null || table.clashCount > 0) {
-      throw new IllegalStateException("no table, or a clash");
-    }
+    Table table = tableThatReads(kind);
     reading.open(kind);
     return table.own.count;
   }
@@ -239,12 +235,8 @@ public final class Tablemaker {
   }
 
   public int read(int kind) throws IllegalArgumentException, IllegalStateException {
-    checkKind(kind);
     prepareTables();
-    Table table = tableOf(kind);
-    if (table == null || table.clashCount > 0) {
-      throw new IllegalStateException("no table, or a clash");
-    }
+    Table table = tableThatReads(kind);
     reading.open(kind);
     reading.finish(table, grammar, signs, signCount);
     switch (reading.outcome) {
@@ -311,9 +303,7 @@ public final class Tablemaker {
     prepareTables();
     Table table = checkedTable(kind, state);
     page.setLength(0);
-    if (table != null) {
-      table.own.write(page, grammar, state);
-    }
+    table.own.write(page, grammar, state);
     return page.toString();
   }
 
@@ -324,7 +314,7 @@ public final class Tablemaker {
     if (!isBelow(sign, LOOKS)) {
       throw new IllegalArgumentException("no such sign");
     }
-    return table == null ? NONE : table.actionAt(state, sign);
+    return table.actionAt(state, sign);
   }
 
   public int goes(int kind, int state, int variable)
@@ -332,27 +322,26 @@ public final class Tablemaker {
     prepareTables();
     Table table = checkedTable(kind, state);
     checkVariable(variable);
-    return table == null ? NONE : table.own.move(state, SIGNS + variable);
+    return table.own.move(state, SIGNS + variable);
   }
 
   public int looks(int kind, int state, int rule) throws IndexOutOfBoundsException {
     prepareTables();
     Table table = checkedTable(kind, state);
     checkRule(rule);
-    return table == null ? 0 : table.looksOf(grammar, state, rule);
+    return table.looksOf(grammar, state, rule);
   }
 
   public int clashes(int kind) throws IllegalArgumentException, IllegalStateException {
     prepareTables();
-    Table table = tableThatIsThere(kind);
-    return table == null ? 0 : table.clashCount;
+    return tableThatIsThere(kind).clashCount;
   }
 
   public int clash(int kind, int nth, int what)
       throws IllegalArgumentException, IllegalStateException, IndexOutOfBoundsException {
     prepareTables();
     Table table = tableThatIsThere(kind);
-    if (table == null || !isBelow(nth, table.clashCount)) {
+    if (!isBelow(nth, table.clashCount)) {
       throw new IndexOutOfBoundsException("no such clash");
     }
     if (!isBelow(what, 5)) {
@@ -365,17 +354,15 @@ public final class Tablemaker {
     prepareTables();
     Table table = checkedTable(kind, state);
     page.setLength(0);
-    if (table != null) {
-      prepareBeginnings();
-      table.own.beginnings.write(page, shorts, state);
-    }
+    prepareBeginnings();
+    table.own.beginnings.write(page, shorts, state);
     return page.toString();
   }
 
   public int ofTable(int kind, int what) throws IllegalArgumentException, IllegalStateException {
     prepareTables();
     Table table = tableThatIsThere(kind);
-    if (table == null || !isBelow(what, 3)) {
+    if (!isBelow(what, 3)) {
       throw new IllegalArgumentException("no such question");
     }
     return table.answerOfAll(what);
@@ -531,11 +518,22 @@ public final class Tablemaker {
     }
   }
 
+  // Each of the next three answers a table that is there, or throws.
+
   private Table tableThatIsThere(int kind) {
     checkKind(kind);
     Table table = tableOf(kind);
     if (table == null) {
       throw new IllegalStateException("no such table");
+    }
+    return table;
+  }
+
+  private Table tableThatReads(int kind) {
+    checkKind(kind);
+    Table table = tableOf(kind);
+    if (table == null || table.clashCount > 0) {
+      throw new IllegalStateException("no table, or a clash");
     }
     return table;
   }
