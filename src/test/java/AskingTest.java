@@ -25,7 +25,7 @@ public final class AskingTest {
   }
 
   private static void promise16() {
-    Tablemaker x = Check.grammar("A>aBb B> E>EDCA C>bcde");
+    Used x = Check.grammar("A>aBb B> E>EDCA C>bcde");
     CHECK.due("text(0)", x.text(0), "A>aBb");
     CHECK.due("text(1)", x.text(1), "B>");
     CHECK.due("text(2)", x.text(2), "E>EDCA");
@@ -35,7 +35,7 @@ public final class AskingTest {
   }
 
   private static void promise17() {
-    Tablemaker x = Check.grammar("A>Ba B>bAA B> C>cD A>D");
+    Used x = Check.grammar("A>Ba B>bAA B> C>cD A>D");
     x.rank(0, 4, 0);
     x.rank(1, 7, 0);
     x.act(1, 2);
@@ -53,7 +53,7 @@ public final class AskingTest {
 
   private static void promise18() {
     // C grows, but is not reached; D does not grow; E has no rule.
-    Tablemaker x = Check.grammar("A>BaA A>B B>b B> C>cC C> D>dD A>D A>EC");
+    Used x = Check.grammar("A>BaA A>B B>b B> C>cC C> D>dD A>D A>EC");
     int[][] due = {{1, 1, 1, 3, 32, 4}, {1, 1, 1, 2, 33, 2}, {1, 0, 0, 0, 0, 2}, {0, 0, 0, 0, 0, 1},
         {0, 0, 0, 0, 0, 0}};
     for (int variable = 0; variable < 5; variable++) {
@@ -62,14 +62,14 @@ public final class AskingTest {
         CHECK.due(call, x.ofVariable(variable, what), due[variable][what]);
       }
     }
-    Tablemaker chain = Check.grammar("A>BCa B>CC C>D D> D>d E>e C>cE");
+    Used chain = Check.grammar("A>BCa B>CC C>D D> D>d E>e C>cE");
     CHECK.due("FIRST through hollow ones", chain.ofVariable(0, 3), 1 + 4 + 8);
     CHECK.due("FOLLOW through hollow ones", chain.ofVariable(3, 4), 1 + 4 + 8);
     CHECK.due("FOLLOW of the last", chain.ofVariable(4, 4), 1 + 4 + 8);
-    Tablemaker none = Check.grammar("A>aA");
+    Used none = Check.grammar("A>aA");
     CHECK.due("A always has END", none.ofVariable(0, 4), 32);
     CHECK.due("A does not grow", none.ofVariable(0, 1), 0);
-    Tablemaker inner = Check.grammar("A>AbB A>a B>A");
+    Used inner = Check.grammar("A>AbB A>a B>A");
     CHECK.due("FOLLOW of A", inner.ofVariable(0, 4), 34);
     CHECK.fails("ofVariable(5, 9)", ARGUMENT, x, () -> x.ofVariable(5, 9));
     CHECK.fails("ofVariable(-1, 0)", ARGUMENT, x, () -> x.ofVariable(-1, 0));
@@ -78,7 +78,7 @@ public final class AskingTest {
   }
 
   private static void promise19() {
-    Tablemaker x = Check.grammar("A>BB A>aaae B>CC C>d C>c D>d A>bE E>");
+    Used x = Check.grammar("A>BB A>aaae B>CC C>d C>c D>d A>bE E>");
     CHECK.due("shortest(0)", x.shortest(0), "b");
     CHECK.due("shortest(1)", x.shortest(1), "cc");
     CHECK.due("shortest(2)", x.shortest(2), "c");
@@ -86,7 +86,7 @@ public final class AskingTest {
     CHECK.due("empty", x.shortest(4), "");
     x.drop(6);
     CHECK.due("as in a dictionary", x.shortest(0), "aaae");
-    Tablemaker four = Check.grammar("A>BBBB B>CCCC C>DDDD D>EEEE E>aaab E>aaba");
+    Used four = Check.grammar("A>BBBB B>CCCC C>DDDD D>EEEE E>aaab E>aaba");
     CHECK.due("a long one", four.shortest(0), "aaab".repeat(256));
     CHECK.due("does not grow", Check.grammar("A>A").shortest(0), "none");
     CHECK.fails("shortest(5)", ARGUMENT, x, () -> x.shortest(5));
@@ -113,7 +113,7 @@ public final class AskingTest {
   }
 
   private static void promise37() {
-    Tablemaker x = Check.type(Check.grammar(SUMS), "ecaebd");
+    Used x = Check.type(Check.grammar(SUMS), "ecaebd");
     int[] due = {17, 44, 17, 17, 14, 44, 17};
     for (int place = 0; place < 7; place++) {
       CHECK.due("nexts(" + place + ")", x.nexts(place), due[place]);
@@ -122,15 +122,15 @@ public final class AskingTest {
     CHECK.due("no sentence begins so", x.nexts(2), 0);
     CHECK.due("and none after it", x.nexts(5), 0);
     CHECK.due("before it some do", x.nexts(1), 44);
-    Tablemaker ring = Check.type(Check.grammar("A>AA A> A>a B>b"), "aa");
+    Used ring = Check.type(Check.grammar("A>AA A> A>a B>b"), "aa");
     CHECK.due("with a ring", ring.nexts(2), 33);
-    Tablemaker hollow = Check.type(Check.grammar("A>BCBd B> B>b C> C>c"), "bb");
+    Used hollow = Check.type(Check.grammar("A>BCBd B> B>b C> C>c"), "bb");
     CHECK.due("behind hollow ones", hollow.nexts(0), 14);
     CHECK.due("in the middle", hollow.nexts(1), 14);
     CHECK.due("behind both", hollow.nexts(2), 8);
-    Tablemaker dead = Check.grammar("A>aB A>b B>bB");
+    Used dead = Check.grammar("A>aB A>b B>bB");
     CHECK.due("not what comes to nothing", dead.nexts(0), 2);
-    CHECK.due("the empty grammar", new Tablemaker().nexts(0), 0);
+    CHECK.due("the empty grammar", new Used().nexts(0), 0);
     CHECK.fails("nexts(7)", INDEX, x, () -> x.nexts(7));
     CHECK.fails("nexts(-1)", INDEX, x, () -> x.nexts(-1));
   }
@@ -181,55 +181,55 @@ public final class AskingTest {
   }
 
   private static void promise40() {
-    Tablemaker x = Check.grammar("A>aA A>bA A>cA A>dA A>eA A>");
+    Used x = Check.grammar("A>aA A>bA A>cA A>dA A>eA A>");
     int[] due = {1, 5, 25, 125};
     for (int length = 0; length < 4; length++) {
       CHECK.due("sentences(" + length + ")", x.sentences(length), due[length]);
     }
-    Tablemaker y = Check.grammar("A>AA A>a A>bcd A>e");
+    Used y = Check.grammar("A>AA A>a A>bcd A>e");
     CHECK.due("no empty one", y.sentences(0), 0);
     CHECK.due("one sign", y.sentences(1), 2);
     CHECK.due("two signs", y.sentences(2), 4);
     CHECK.due("three signs", y.sentences(3), 9);
     CHECK.fails("sentences(-1)", ARGUMENT, y, () -> y.sentences(-1));
     CHECK.fails("sentences(4)", ARGUMENT, y, () -> y.sentences(4));
-    Tablemaker ring = Check.grammar("A>AA A> A>A A>c");
+    Used ring = Check.grammar("A>AA A> A>A A>c");
     CHECK.due("each once, with a ring too", ring.sentences(3), 1);
   }
 
   private static void promise41() {
-    Tablemaker x = Check.grammar("A>e A>ba A>ab A>B B> B>ccc B>dddd A>c");
+    Used x = Check.grammar("A>e A>ba A>ab A>B B> B>ccc B>dddd A>c");
     String[] due = {"", "c", "e", "ab", "ba", "ccc", "none", "none"};
     for (int nth = 0; nth < due.length; nth++) {
       CHECK.due("sentence(" + nth + ")", x.sentence(nth), due[nth]);
     }
     CHECK.due("far off", x.sentence(Integer.MAX_VALUE), "none");
     CHECK.fails("sentence(-1)", ARGUMENT, x, () -> x.sentence(-1));
-    Tablemaker all = Check.grammar("A>aA A>bA A>cA A>dA A>eA A>");
+    Used all = Check.grammar("A>aA A>bA A>cA A>dA A>eA A>");
     CHECK.due("the last of all", all.sentence(155), "eee");
     CHECK.due("one more", all.sentence(156), "none");
   }
 
   private static void promise42() {
-    Tablemaker x = Check.grammar("A>AA A>a A>b");
+    Used x = Check.grammar("A>AA A>a A>b");
     CHECK.due("twin(2)", x.twin(2), "none");
     CHECK.due("twin(3)", x.twin(3), "aaa");
-    Tablemaker y = Check.grammar("A>cB A>Cd B>d C>c A>B B>e A>e");
+    Used y = Check.grammar("A>cB A>Cd B>d C>c A>B B>e A>e");
     CHECK.due("twin(0)", y.twin(0), "none");
     CHECK.due("twin(1)", y.twin(1), "e");
     CHECK.due("twin(3)", y.twin(3), "e");
     y.drop(6);
     CHECK.due("twin(2)", y.twin(2), "cd");
-    Tablemaker empty = Check.grammar("A>B A> B>");
+    Used empty = Check.grammar("A>B A> B>");
     CHECK.due("the empty one", empty.twin(0), "");
-    Tablemaker ring = Check.grammar("A>A A>a");
+    Used ring = Check.grammar("A>A A>a");
     CHECK.due("with a ring", ring.twin(3), "none");
     CHECK.fails("twin(4)", ARGUMENT, ring, () -> ring.twin(4));
     CHECK.fails("twin(-1)", ARGUMENT, ring, () -> ring.twin(-1));
   }
 
   private static void promise43() {
-    Tablemaker x = Check.grammar("A>aAb A> B>b");
+    Used x = Check.grammar("A>aAb A> B>b");
     CHECK.due("from nothing", x.differ(0), "");
     x.shelve();
     CHECK.due("from itself", x.differ(3), "none");
@@ -251,7 +251,7 @@ public final class AskingTest {
   }
 
   private static void promise44() {
-    Tablemaker x = Check.type(Check.grammar("A>aA A>b B>b"), "ab");
+    Used x = Check.type(Check.grammar("A>aA A>b B>b"), "ab");
     CHECK.due("house", Check.house(x), "3 2 2 3 0 0 -1 0 0");
     x.shelve();
     x.drop(2);
@@ -274,7 +274,7 @@ public final class AskingTest {
     for (String rules : all) {
       CHECK.due("isSound of " + rules, Check.grammar(rules).isSound(), true);
     }
-    Tablemaker settled = Check.grammar("A>AcA A>e");
+    Used settled = Check.grammar("A>AcA A>e");
     settled.rank(2, 1, 2);
     CHECK.due("settled", settled.isSound(), true);
     Check.type(settled, "eee").read(1);
@@ -284,9 +284,9 @@ public final class AskingTest {
   }
 
   private static void promise46() {
-    digest(new Tablemaker());
+    digest(new Used());
     digest(Check.type(Check.grammar(SUMS), "ece"));
-    Tablemaker x = Check.type(Check.grammar("A>aAb A> B>b"), "aabb");
+    Used x = Check.type(Check.grammar("A>aAb A> B>b"), "aabb");
     x.rank(0, 3, 1);
     x.act(0, 2);
     x.shelve();
@@ -306,7 +306,7 @@ public final class AskingTest {
     return d * 31 + v;
   }
 
-  private static void digest(Tablemaker x) {
+  private static void digest(Used x) {
     long d = 6105;
     for (int what = 0; what <= 8; what++) d = mix(d, x.house(what));
     for (int rule = 0; rule < x.house(0); rule++) {

@@ -11,10 +11,11 @@ final class Check {
 
   Check(String name) {
     this.name = name;
+    Watch.over(name);
   }
 
-  static Tablemaker grammar(String rules) {
-    Tablemaker x = new Tablemaker();
+  static Used grammar(String rules) {
+    Used x = new Used();
     if (!rules.isEmpty()) {
       for (String one : rules.split(" ")) {
         add(x, one);
@@ -23,7 +24,7 @@ final class Check {
     return x;
   }
 
-  static int add(Tablemaker x, String rule) {
+  static int add(Used x, String rule) {
     int[] right = new int[4];
     for (int i = 2; i < rule.length(); i++) {
       right[i - 2] = SYMBOLS.indexOf(rule.charAt(i));
@@ -31,8 +32,22 @@ final class Check {
     return x.rule(rule.charAt(0) - 'A', rule.length() - 2, right[0], right[1], right[2], right[3]);
   }
 
+  /** All is full: ten rules here and on the shelf, ten signs, eight changes, and a reading that accepts. */
+  static Used full() {
+    Used x = grammar("A>AcB A>B B>BdC B>C C>aAb C>e C>bE E>aE E>a C>caaa");
+    type(x, "aecebdecba");
+    x.shelve();
+    x.act(0, 1);
+    x.act(9, 3);
+    x.rank(0, 9, 2);
+    x.rank(4, 1, 1);
+    x.knock();
+    x.read(1);
+    return x;
+  }
+
   /** Empties what is typed, and types a text. */
-  static Tablemaker type(Tablemaker x, String text) {
+  static Used type(Used x, String text) {
     x.say(5, -1, -1, -1, -1, -1);
     for (char c : text.toCharArray()) {
       x.say(c - 'a', -1, -1, -1, -1, -1);
@@ -40,7 +55,7 @@ final class Check {
     return x;
   }
 
-  static String rules(Tablemaker x) {
+  static String rules(Used x) {
     StringBuilder all = new StringBuilder();
     for (int rule = 0; rule < x.house(0); rule++) {
       all.append(rule == 0 ? "" : " ").append(x.text(rule));
@@ -48,7 +63,7 @@ final class Check {
     return all.toString();
   }
 
-  static String house(Tablemaker x) {
+  static String house(Used x) {
     StringBuilder all = new StringBuilder();
     for (int what = 0; what <= 8; what++) {
       all.append(what == 0 ? "" : " ").append(x.house(what));
@@ -57,7 +72,7 @@ final class Check {
   }
 
   /** All that can be asked of an object. */
-  static String shown(Tablemaker x) {
+  static String shown(Used x) {
     StringBuilder all = new StringBuilder();
     all.append(house(x)).append('|').append(rules(x)).append('|').append(x.digest());
     all.append('|').append(x.typed()).append('|').append(x.pile()).append('|').append(x.tree());
@@ -77,8 +92,19 @@ final class Check {
     }
   }
 
+  /** The call throws nothing. */
+  void allowed(String call, Call body) {
+    done++;
+    try {
+      body.run();
+    } catch (RuntimeException e) {
+      wrong++;
+      System.out.println(name + ": " + call + " threw " + e.getClass().getName() + ", due is nothing");
+    }
+  }
+
   /** The call throws just this, and the object is as before. */
-  void fails(String call, Class<?> type, Tablemaker x, Call body) {
+  void fails(String call, Class<?> type, Used x, Call body) {
     done++;
     String before = shown(x);
     String got;

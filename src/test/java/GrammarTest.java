@@ -23,7 +23,7 @@ public final class GrammarTest {
   }
 
   private static void promise1() {
-    Tablemaker x = new Tablemaker();
+    Used x = new Used();
     CHECK.due("new: house", Check.house(x), "0 0 0 0 0 0 -1 0 0");
     CHECK.due("new: typed", x.typed(), "");
     CHECK.due("new: pile", x.pile(), "");
@@ -31,7 +31,7 @@ public final class GrammarTest {
     CHECK.due("new: states(3)", x.states(3), 2);
     CHECK.due("new: sentence(0)", x.sentence(0), "none");
     CHECK.due("new: shared", x.shared(), 0);
-    Tablemaker y = new Tablemaker();
+    Used y = new Used();
     Check.add(y, "A>a");
     y.knock();
     CHECK.due("another object has a rule", x.house(0), 0);
@@ -39,7 +39,7 @@ public final class GrammarTest {
   }
 
   private static void promise2() {
-    Tablemaker x = new Tablemaker();
+    Used x = new Used();
     CHECK.due("first rule", x.rule(0, 3, 0, 6, 1, 0), 0);
     CHECK.due("second rule", x.rule(4, 4, 9, 5, 4, 0), 1);
     CHECK.due("without right", x.rule(0, 0, -7, 10, 99, Integer.MIN_VALUE), 2);
@@ -56,7 +56,7 @@ public final class GrammarTest {
   }
 
   private static void promise2Wrong() {
-    Tablemaker x = Check.grammar("A>ab A>");
+    Used x = Check.grammar("A>ab A>");
     int[][] wrong = {{-1, 0, 0, 0, 0, 0}, {5, 0, 0, 0, 0, 0}, {0, -1, 0, 0, 0, 0}, {0, 5, 0, 0, 0, 0},
         {0, 1, -1, 0, 0, 0}, {0, 1, 10, 0, 0, 0}, {0, 2, 0, 10, 0, 0}, {0, 3, 0, 0, -1, 0},
         {0, 4, 0, 0, 0, 10}, {Integer.MAX_VALUE, Integer.MIN_VALUE, 0, 0, 0, 0}};
@@ -66,7 +66,7 @@ public final class GrammarTest {
     CHECK.fails("the same rule", STATE, x, () -> x.rule(0, 2, 0, 1, 0, 0));
     CHECK.fails("the same rule, other rest", STATE, x, () -> x.rule(0, 2, 0, 1, 7, 7));
     CHECK.fails("the same empty rule", STATE, x, () -> x.rule(0, 0, 3, 3, 3, 3));
-    Tablemaker y = Check.grammar("A>a A>b A>c A>d A>e B>a B>b B>c B>d");
+    Used y = Check.grammar("A>a A>b A>c A>d A>e B>a B>b B>c B>d");
     CHECK.due("the tenth", Check.add(y, "B>e"), 9);
     CHECK.fails("an eleventh", STATE, y, () -> y.rule(2, 0, 0, 0, 0, 0));
     CHECK.fails("a wrong eleventh", ARGUMENT, y, () -> y.rule(2, 1, 10, 0, 0, 0));
@@ -78,7 +78,7 @@ public final class GrammarTest {
   }
 
   private static void promise3() {
-    Tablemaker x = Check.grammar("A>a B>bcd C> A>BC");
+    Used x = Check.grammar("A>a B>bcd C> A>BC");
     x.act(2, 3);
     x.act(3, 1);
     CHECK.due("drop(1)", x.drop(1), 3);
@@ -97,7 +97,7 @@ public final class GrammarTest {
   }
 
   private static void promise4() {
-    Tablemaker x = Check.grammar("A>aB B>b");
+    Used x = Check.grammar("A>aB B>b");
     CHECK.due("act(1, 3)", x.act(1, 3), 0);
     CHECK.due("act(1, 2)", x.act(1, 2), 3);
     CHECK.due("other rule", x.ofRule(0, 2), 0);
@@ -112,7 +112,7 @@ public final class GrammarTest {
   }
 
   private static void promise5() {
-    Tablemaker x = Check.grammar("A>AcA A>AdB A>e B>A");
+    Used x = Check.grammar("A>AcA A>AdB A>e B>A");
     CHECK.due("rank(2, 9, 2)", x.rank(2, 9, 2), 0);
     CHECK.due("rank(2, 1, 0)", x.rank(2, 1, 0), 9);
     CHECK.due("rank(3, 0, 1)", x.rank(3, 0, 1), 0);
@@ -134,7 +134,7 @@ public final class GrammarTest {
   }
 
   private static void promise6() {
-    Tablemaker x = Check.grammar("B>Bb A>a C>c A>CD D>D A>C E>");
+    Used x = Check.grammar("B>Bb A>a C>c A>CD D>D A>C E>");
     x.act(5, 2);
     CHECK.due("needless", x.needless(), 4);
     CHECK.due("rules left", Check.rules(x), "A>a C>c A>C");
@@ -144,7 +144,7 @@ public final class GrammarTest {
     CHECK.due("needless again", x.needless(), 0);
     CHECK.due("is no change", x.house(3), before);
     CHECK.due("and leaves the reading", x.house(5), 1);
-    Tablemaker y = Check.grammar("A>aA B>b");
+    Used y = Check.grammar("A>aA B>b");
     y.begin(0);
     CHECK.due("where A does not grow", y.needless(), 2);
     CHECK.due("none is left", y.house(0), 0);
@@ -152,7 +152,7 @@ public final class GrammarTest {
   }
 
   private static void promise7() {
-    Tablemaker x = Check.grammar("A>Aa A>Abcd B>A A>Ce A> D>DD");
+    Used x = Check.grammar("A>Aa A>Abcd B>A A>Ce A> D>DD");
     x.act(0, 1);
     x.act(3, 2);
     x.begin(3);
@@ -162,7 +162,7 @@ public final class GrammarTest {
     CHECK.due("act of the fourth", x.ofRule(3, 2), 2);
     CHECK.due("act of the last", x.ofRule(6, 2), 0);
     CHECK.due("ends the reading", x.house(5), 0);
-    Tablemaker y = Check.grammar("B>Bb B>cA A>a");
+    Used y = Check.grammar("B>Bb B>cA A>a");
     CHECK.due("the smallest one", y.turn(1), 2);
     CHECK.due("rules", Check.rules(y), "C>bC B>cAC A>a C>");
     CHECK.due("a change", y.house(3), 4);
@@ -171,10 +171,10 @@ public final class GrammarTest {
     CHECK.due("a left is used, also the first", Check.grammar("B>b A>Aa A>b").turn(0), 2);
     CHECK.due("a right is used, also the first", Check.grammar("A>BC A>Aa A>b").turn(0), 3);
     CHECK.due("the last symbol is used", Check.grammar("A>Aa A>b A>aaaB D>cccC").turn(0), -4);
-    Tablemaker dropped = Check.grammar("A>aaaB A>Aa A>b");
+    Used dropped = Check.grammar("A>aaaB A>Aa A>b");
     dropped.drop(0);
     CHECK.due("what was dropped is not used", dropped.turn(0), 1);
-    Tablemaker z = Check.grammar("C>Caaa C>aaa");
+    Used z = Check.grammar("C>Caaa C>aaa");
     CHECK.due("never A", z.turn(2), 1);
     CHECK.due("rules", Check.rules(z), "B>aaaB C>aaaB B>");
   }
@@ -188,9 +188,9 @@ public final class GrammarTest {
     unfit("only A is free", "B>Ba B>b C>DE", 1);
     unfit("five symbols", "A>Aa A>bbbb", 0);
     unfit("ten rules", "A>Aa A>b A>c A>d A>e B>a B>b B>c B>d B>e", 0);
-    Tablemaker nine = Check.grammar("A>Aa A>b A>c A>d A>e B>a B>b B>c B>d");
+    Used nine = Check.grammar("A>Aa A>b A>c A>d A>e B>a B>b B>c B>d");
     CHECK.due("nine rules", nine.turn(0), 2);
-    Tablemaker four = Check.grammar("A>Aaaa A>bbb B>bbbb");
+    Used four = Check.grammar("A>Aaaa A>bbb B>bbbb");
     CHECK.due("four symbols that begin so", four.turn(0), 2);
     CHECK.due("rules", Check.rules(four), "C>aaaC A>bbbC B>bbbb C>");
     CHECK.fails("turn(-1)", ARGUMENT, four, () -> four.turn(-1));
@@ -198,7 +198,7 @@ public final class GrammarTest {
   }
 
   private static void unfit(String why, String rules, int variable) {
-    Tablemaker x = Check.grammar(rules);
+    Used x = Check.grammar(rules);
     if (x.clashes(0) == 0) {
       x.begin(0);
     }
@@ -208,7 +208,7 @@ public final class GrammarTest {
   }
 
   private static void promise8() {
-    Tablemaker x = Check.grammar("A>a A>ab");
+    Used x = Check.grammar("A>a A>ab");
     CHECK.due("differ from nothing", x.differ(3), "a");
     x.begin(3);
     CHECK.due("shelve", x.shelve(), 2);
@@ -229,7 +229,7 @@ public final class GrammarTest {
   }
 
   private static void promise9() {
-    Tablemaker x = Check.grammar("A>a");
+    Used x = Check.grammar("A>a");
     x.act(0, 1);
     x.rank(0, 5, 1);
     x.rank(0, 6, 2);
@@ -257,7 +257,7 @@ public final class GrammarTest {
     x.begin(0);
     CHECK.fails("undo of nothing with a reading", STATE, x, x::undo);
     CHECK.due("reading", x.house(5), 1);
-    Tablemaker y = Check.grammar("A>AcA A>e");
+    Used y = Check.grammar("A>AcA A>e");
     y.rank(2, 1, 2);
     y.rank(2, 1, 1);
     int one = y.action(1, 4, 2);
@@ -267,7 +267,7 @@ public final class GrammarTest {
   }
 
   private static void promise9Forgets() {
-    Tablemaker x = new Tablemaker();
+    Used x = new Used();
     for (int i = 0; i < 10; i++) {
       x.rule(i / 5, 1, i % 5, 0, 0, 0);
     }
@@ -293,7 +293,7 @@ public final class GrammarTest {
   }
 
   private static void promise10() {
-    Tablemaker x = Check.grammar("A>a");
+    Used x = Check.grammar("A>a");
     x.begin(0);
     CHECK.due("knock", x.knock(), 1);
     CHECK.due("knock", x.knock(), 2);

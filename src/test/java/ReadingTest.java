@@ -28,7 +28,7 @@ public final class ReadingTest {
   }
 
   private static void promise11() {
-    Tablemaker x = new Tablemaker();
+    Used x = new Used();
     CHECK.due("say", x.say(0, -1, 4, -1, 2, -1), 3);
     CHECK.due("typed", x.typed(), "aec");
     CHECK.due("say nothing", x.say(-1, -1, -1, -1, -1, -1), 3);
@@ -52,7 +52,7 @@ public final class ReadingTest {
   }
 
   private static void promise12() {
-    Tablemaker x = Check.type(new Tablemaker(), "abc");
+    Used x = Check.type(new Used(), "abc");
     CHECK.due("alter(1, 4)", x.alter(1, 4), 1);
     CHECK.due("alter(0, 0)", x.alter(0, 0), 0);
     CHECK.due("alter(2, 3)", x.alter(2, 3), 2);
@@ -66,7 +66,7 @@ public final class ReadingTest {
   }
 
   private static void promise13() {
-    Tablemaker x = Check.type(Check.grammar(SUMS), "e");
+    Used x = Check.type(Check.grammar(SUMS), "e");
     CHECK.due("begin(1)", x.begin(1), 12);
     CHECK.due("begin(2)", x.begin(2), 12);
     CHECK.due("begin(3)", x.begin(3), 22);
@@ -74,16 +74,16 @@ public final class ReadingTest {
     CHECK.fails("begin(0) with clashes", STATE, x, () -> x.begin(0));
     CHECK.fails("begin(-1)", ARGUMENT, x, () -> x.begin(-1));
     CHECK.fails("begin(4)", ARGUMENT, x, () -> x.begin(4));
-    Tablemaker many = Check.grammar(MANY);
+    Used many = Check.grammar(MANY);
     CHECK.fails("begin(2) that is not there", STATE, many, () -> many.begin(2));
     CHECK.fails("begin(3) that is not there", STATE, many, () -> many.begin(3));
-    Tablemaker settled = Check.grammar("A>AcA A>e");
+    Used settled = Check.grammar("A>AcA A>e");
     settled.rank(2, 1, 2);
     CHECK.due("begin of a settled table", settled.begin(0), 5);
   }
 
   private static void promise14() {
-    Tablemaker x = Check.type(Check.grammar("A>aAb A>"), "ab");
+    Used x = Check.type(Check.grammar("A>aAb A>"), "ab");
     CHECK.fails("step without a reading", STATE, x, x::step);
     x.begin(1);
     int[] due = {1, -11, 4, -10, -2, -8, -8};
@@ -101,7 +101,7 @@ public final class ReadingTest {
   }
 
   private static void promise15() {
-    Tablemaker x = Check.grammar("A>aAb A>");
+    Used x = Check.grammar("A>aAb A>");
     CHECK.due("read the empty text", x.read(1), 2);
     Check.type(x, "aabb");
     CHECK.due("read", x.read(3), 8);
@@ -116,12 +116,12 @@ public final class ReadingTest {
     CHECK.fails("read(0) with clashes", STATE, x, () -> x.read(0));
     CHECK.fails("read(-1)", ARGUMENT, x, () -> x.read(-1));
     CHECK.fails("read(4)", ARGUMENT, x, () -> x.read(4));
-    Tablemaker many = Check.grammar(MANY);
+    Used many = Check.grammar(MANY);
     CHECK.fails("read(3) that is not there", STATE, many, () -> many.read(3));
   }
 
   private static void promise15Endless() {
-    Tablemaker x = Check.grammar(LONG);
+    Used x = Check.grammar(LONG);
     CHECK.due("empty", x.read(0), 198);
     Check.type(x, "a");
     CHECK.due("accepts with the 200th step", x.read(0), 200);
@@ -142,7 +142,7 @@ public final class ReadingTest {
   }
 
   private static void endsOfReading() {
-    Tablemaker x = Check.type(Check.grammar("A>aA A>b"), "ab");
+    Used x = Check.type(Check.grammar("A>aA A>b"), "ab");
     Runnable[] calls = {() -> x.say(6, 1, -1, -1, -1, -1), () -> x.alter(1, 1), () -> x.rank(0, 0, 0),
         () -> x.act(0, 0), () -> x.shelve(), () -> x.undo(), () -> Check.add(x, "B>"), () -> x.needless(),
         () -> x.say(5, 0, 1, -1, -1, -1), () -> x.drop(1)};
@@ -161,7 +161,7 @@ public final class ReadingTest {
       others[i].run();
       CHECK.due("call " + i + " leaves the reading", Check.house(x), "2 2 2 8 0 1 2 5 " + (i > 0 ? 1 : 0));
     }
-    Tablemaker empty = Check.grammar("A>");
+    Used empty = Check.grammar("A>");
     empty.begin(0);
     empty.say(6, -1, -1, -1, -1, -1);
     CHECK.due("taking nothing away ends it", empty.house(5), 0);
@@ -171,7 +171,7 @@ public final class ReadingTest {
   }
 
   private static void promise30() {
-    Tablemaker x = Check.type(Check.grammar("A>aAb A>"), "aabb");
+    Used x = Check.type(Check.grammar("A>aAb A>"), "aabb");
     CHECK.due("no reading", x.pile(), "");
     x.begin(2);
     CHECK.due("at first", x.pile(), "0");
@@ -184,7 +184,7 @@ public final class ReadingTest {
     CHECK.due("at the end", x.pile(), "0 2");
     Check.type(x, "ab");
     CHECK.due("gone", x.pile(), "");
-    Tablemaker deep = Check.type(Check.grammar("A>aA A>aB B>b"), "aaaaaaaaab");
+    Used deep = Check.type(Check.grammar("A>aA A>aB B>b"), "aaaaaaaaab");
     deep.begin(1);
     for (int i = 0; i < 10; i++) {
       deep.step();
@@ -193,7 +193,7 @@ public final class ReadingTest {
   }
 
   private static void promise31() {
-    Tablemaker x = Check.type(Check.grammar("A>aA A>b"), "ab");
+    Used x = Check.type(Check.grammar("A>aA A>b"), "ab");
     CHECK.due("no reading", x.stepAt(0), -8);
     x.begin(0);
     CHECK.due("no step yet", x.stepAt(0), -8);
@@ -214,7 +214,7 @@ public final class ReadingTest {
   }
 
   private static void promise32() {
-    Tablemaker x = Check.type(Check.grammar(SUMS), "ecede");
+    Used x = Check.type(Check.grammar(SUMS), "ecede");
     x.alter(2, 4);
     x.alter(3, 3);
     CHECK.due("no reading", x.tree(), "");
@@ -226,19 +226,19 @@ public final class ReadingTest {
     Check.type(x, "ec");
     x.read(1);
     CHECK.due("refused", x.tree(), "");
-    Tablemaker empty = Check.grammar("A>BCB B> C>B");
+    Used empty = Check.grammar("A>BCB B> C>B");
     empty.read(1);
     CHECK.due("empty text", empty.tree(), "A(B()C(B())B())");
-    Tablemaker a = Check.grammar("A>");
+    Used a = Check.grammar("A>");
     a.read(0);
     CHECK.due("nothing at all", a.tree(), "A()");
-    Tablemaker deep = Check.type(Check.grammar("A>aA A>"), "aaaaaaaaaa");
+    Used deep = Check.type(Check.grammar("A>aA A>"), "aaaaaaaaaa");
     deep.read(1);
     CHECK.due("ten deep", deep.tree(), "A(a".repeat(10) + "A()" + ")".repeat(10));
   }
 
   private static void promise33() {
-    Tablemaker x = Check.type(Check.grammar("A>BBBB B>a B>b B>c B>d"), "dacb");
+    Used x = Check.type(Check.grammar("A>BBBB B>a B>b B>c B>d"), "dacb");
     int[] due = {4 + 1 + 3 + 2, 4 * 1 * 3 * 2, 1000003 + 4 - 1 - 3 - 2, 4};
     for (int act = 0; act < 4; act++) {
       x.act(0, act);
@@ -246,17 +246,17 @@ public final class ReadingTest {
       x.read(0);
       CHECK.due("value with act " + act, x.value(), due[act]);
     }
-    Tablemaker empty = Check.grammar("A>B B>");
+    Used empty = Check.grammar("A>B B>");
     for (int act = 0; act < 4; act++) {
       empty.act(1, act);
       empty.read(0);
       CHECK.due("empty rule with act " + act, empty.value(), act == 1 ? 1 : 0);
     }
-    Tablemaker powers = Check.type(Check.grammar("A>eA A>e"), "eeeeeeeeee");
+    Used powers = Check.type(Check.grammar("A>eA A>e"), "eeeeeeeeee");
     powers.act(0, 1);
     powers.read(1);
     CHECK.due("5^10 mod 1000003", powers.value(), 9765625 % 1000003);
-    Tablemaker less = Check.type(Check.grammar("A>aB B>be"), "abe");
+    Used less = Check.type(Check.grammar("A>aB B>be"), "abe");
     less.act(0, 3);
     less.act(1, 2);
     less.read(3);
@@ -272,7 +272,7 @@ public final class ReadingTest {
   }
 
   private static void promise34() {
-    Tablemaker x = Check.type(Check.grammar("A>BC B>a C>cC C>"), "acc");
+    Used x = Check.type(Check.grammar("A>BC B>a C>cC C>"), "acc");
     CHECK.due("no reading", x.derivation(), "");
     x.begin(1);
     x.step();
@@ -290,7 +290,7 @@ public final class ReadingTest {
   }
 
   private static void promise35() {
-    Tablemaker x = Check.grammar("A>aA A>b");
+    Used x = Check.grammar("A>aA A>b");
     CHECK.due("without", x.shared(), 0);
     Check.type(x, "aab").read(0);
     CHECK.due("with one alone", x.shared(), 0);
@@ -318,7 +318,7 @@ public final class ReadingTest {
   }
 
   private static void promise36() {
-    Tablemaker x = new Tablemaker();
+    Used x = new Used();
     CHECK.due("nothing", x.typed(), "");
     x.say(0, 1, 2, 3, 4, 0);
     CHECK.due("all signs", x.typed(), "abcdea");

@@ -38,7 +38,7 @@ public final class ReferenceTest {
     "nexts", "mend", "trees", "sentences", "sentence", "twin", "differ", "house", "isSound"};
 
   private final Random random;
-  private final Tablemaker one = new Tablemaker();
+  private final Used one = new Used();
   private final Reference other = new Reference();
   private final StringBuilder story = new StringBuilder();
   private int calls;
@@ -211,6 +211,7 @@ public final class ReferenceTest {
   }
 
   public static void main(String[] args) throws Exception {
+    Watch.over("ReferenceTest");
     int from = args.length > 1 ? Integer.parseInt(args[0]) : 0;
     int many = args.length > 1 ? Integer.parseInt(args[1]) : 150;
     long calls = 0;

@@ -25,16 +25,16 @@ public final class TablesTest {
   }
 
   private static void promise21() {
-    Tablemaker x = Check.grammar("A>aA A>b");
+    Used x = Check.grammar("A>aA A>b");
     for (int kind = 0; kind < 4; kind++) {
       CHECK.due("states(" + kind + ")", x.states(kind), 5);
     }
     CHECK.fails("states(-1)", ARGUMENT, x, () -> x.states(-1));
     CHECK.fails("states(4)", ARGUMENT, x, () -> x.states(4));
-    Tablemaker forty = Check.grammar(FORTY);
+    Used forty = Check.grammar(FORTY);
     CHECK.due("forty", forty.states(3), 40);
     CHECK.due("forty, merged", forty.states(2), 19);
-    Tablemaker more = Check.grammar(FORTY_ONE);
+    Used more = Check.grammar(FORTY_ONE);
     CHECK.due("forty-one", more.states(3), -5);
     CHECK.due("forty-one, merged", more.states(2), -5);
     CHECK.due("without looks", more.states(1), 19);
@@ -43,21 +43,21 @@ public final class TablesTest {
     CHECK.due("there again", more.states(3) > 0, true);
     more.undo();
     CHECK.due("not there again", more.states(3), -5);
-    Tablemaker wide = Check.grammar("E>abae E>dBAB C>dEed A>aeA E>BDBC B>dddA A>dDE D>dddC E>e B>BdBD");
+    Used wide = Check.grammar("E>abae E>dBAB C>dEed A>aeA E>BDBC B>dddA A>dDE D>dddC E>e B>BdBD");
     CHECK.due("many states without looks", wide.states(0), 162);
-    Tablemaker useless = Check.grammar("A>a A>bB C>c");
+    Used useless = Check.grammar("A>a A>bB C>c");
     CHECK.due("by useful rules alone", useless.states(0), 3);
   }
 
   private static void promise22() {
-    Tablemaker x = Check.grammar("A>aA A>b");
+    Used x = Check.grammar("A>aA A>b");
     String[] due = {"S>.A", "A>a.A", "A>b.", "S>A.", "A>aA."};
     for (int state = 0; state < 5; state++) {
       CHECK.due("state(0, " + state + ")", x.state(0, state), due[state]);
       CHECK.due("state(2, " + state + ")", x.state(2, state), due[state]);
       CHECK.due("state(3, " + state + ")", x.state(3, state), due[state] + "/$");
     }
-    Tablemaker y = Check.grammar("B>b A>AaA A>AaB A>a A>Bc B>Bb");
+    Used y = Check.grammar("B>b A>AaA A>AaB A>a A>Bc B>Bb");
     CHECK.due("rules rise", y.state(1, y.goes(1, 0, 0)), "S>A. A>A.aA A>A.aB");
     int behind = y.action(1, y.goes(1, 0, 0), 0);
     CHECK.due("the same dot", y.state(1, behind), "A>Aa.A A>Aa.B");
@@ -72,7 +72,7 @@ public final class TablesTest {
   }
 
   private static void promise23() {
-    Tablemaker x = Check.grammar("A>aA A>b");
+    Used x = Check.grammar("A>aA A>b");
     int[][] due = {{1, 2, -1, -1, -1, -1}, {1, 2, -1, -1, -1, -1}, {-11, -11, -11, -11, -11, -11},
         {-1, -1, -1, -1, -1, -2}, {-10, -10, -10, -10, -10, -10}};
     for (int state = 0; state < 5; state++) {
@@ -89,10 +89,10 @@ public final class TablesTest {
     CHECK.fails("action(0, 5, 9)", INDEX, x, () -> x.action(0, 5, 9));
     CHECK.fails("action(4, 0, 0)", INDEX, x, () -> x.action(4, 0, 0));
     CHECK.fails("action(-1, 0, 0)", INDEX, x, () -> x.action(-1, 0, 0));
-    Tablemaker y = Check.grammar("A>aA A>a A>A");
+    Used y = Check.grammar("A>aA A>a A>A");
     CHECK.due("shift and reduce without ranks", y.action(0, 1, 0), -3);
     CHECK.due("accept and reduce", y.action(1, y.goes(1, 0, 0), 5), -3);
-    Tablemaker z = Check.grammar(APART);
+    Used z = Check.grammar(APART);
     int merged = z.action(2, z.action(2, 0, 0), 2);
     CHECK.due("merged looks clash", z.action(2, merged, 3), -3);
     int apart = z.action(3, z.action(3, 0, 0), 2);
@@ -102,7 +102,7 @@ public final class TablesTest {
 
   /** The sign c has rank and side, and the rule ends in d with another rank. */
   private static void settle(int ofSign, int side, int ofRule, int due) {
-    Tablemaker x = Check.grammar("A>AcA A>AdA A>e");
+    Used x = Check.grammar("A>AcA A>AdA A>e");
     x.rank(2, ofSign, side);
     x.rank(3, ofRule, (side + 1) % 3);
     // State 6 has A>AdA. and both dots ahead of c and d.
@@ -120,28 +120,28 @@ public final class TablesTest {
     settle(9, 0, 9, -11);
     settle(9, 1, 9, 3);
     settle(9, 2, 9, -1);
-    Tablemaker half = Check.grammar("A>AcA A>AdA A>e");
+    Used half = Check.grammar("A>AcA A>AdA A>e");
     half.rank(2, 5, 0);
     CHECK.due("the rule has no rank", half.action(1, 6, 2), -3);
     CHECK.due("neither has", half.action(1, 6, 3), -3);
     CHECK.due("both are c", half.action(1, 5, 2), -10);
     CHECK.due("the sign has none", half.action(1, 5, 3), -3);
-    Tablemaker three = Check.grammar("A>a A>B B>a B>aa");
+    Used three = Check.grammar("A>a A>B B>a B>aa");
     three.rank(0, 1, 0);
     int state = three.action(0, 0, 0);
     CHECK.due("three actions are not settled", three.action(0, state, 0), -3);
     CHECK.due("two reduces are not settled", three.action(0, state, 1), -3);
     CHECK.due("none of these", three.ofTable(0, 0), 0);
-    Tablemaker end = Check.grammar("A>A A>Ab A>b");
+    Used end = Check.grammar("A>A A>Ab A>b");
     end.rank(1, 1, 0);
     CHECK.due("no rank settles at the end", end.action(1, end.goes(1, 0, 0), 5), -3);
-    Tablemaker empty = Check.grammar("A>BaA A>b B> A>a");
+    Used empty = Check.grammar("A>BaA A>b B> A>a");
     empty.rank(0, 1, 0);
     CHECK.due("an empty rule has no rank", empty.action(1, 0, 0), -3);
   }
 
   private static void promise24() {
-    Tablemaker x = Check.grammar("A>aA A>bB B>c C>c");
+    Used x = Check.grammar("A>aA A>bB B>c C>c");
     CHECK.due("goes(0, 0, 0)", x.goes(0, 0, 0), 3);
     CHECK.due("goes(3, 0, 0)", x.goes(3, 0, 0), 3);
     CHECK.due("goes(0, 0, 1)", x.goes(0, 0, 1), -1);
@@ -155,7 +155,7 @@ public final class TablesTest {
   }
 
   private static void promise25() {
-    Tablemaker x = Check.grammar(APART);
+    Used x = Check.grammar(APART);
     x.rank(0, 1, 0);
     int merged = x.action(1, x.action(1, 0, 0), 2);
     CHECK.due("kind 0", x.looks(0, merged, 4), 63);
@@ -165,7 +165,7 @@ public final class TablesTest {
     CHECK.due("kind 3", x.looks(3, apart, 4), 8);
     CHECK.due("kind 3", x.looks(3, apart, 5), 16);
     CHECK.due("not complete", x.looks(0, 0, 4), 0);
-    Tablemaker sums = Check.grammar("A>AcA A>e B>b");
+    Used sums = Check.grammar("A>AcA A>e B>b");
     sums.rank(2, 1, 1);
     CHECK.due("before it is settled", sums.looks(1, 4, 0), 36);
     CHECK.due("a rule that is not useful", sums.looks(0, 0, 2), 0);
@@ -177,18 +177,18 @@ public final class TablesTest {
   }
 
   private static void promise26() {
-    Tablemaker x = Check.grammar(APART);
+    Used x = Check.grammar(APART);
     CHECK.due("kind 0", x.clashes(0), 6);
     CHECK.due("kind 1", x.clashes(1), 2);
     CHECK.due("kind 2", x.clashes(2), 2);
     CHECK.due("kind 3", x.clashes(3), 0);
     // Merged looks are less than FOLLOW: the textbook's one with = and *.
-    Tablemaker y = Check.grammar("A>BcC A>C B>dC B>a C>B");
+    Used y = Check.grammar("A>BcC A>C B>dC B>a C>B");
     CHECK.due("by FOLLOW", y.clashes(1), 1);
     CHECK.due("merged", y.clashes(2), 0);
     CHECK.fails("clashes(-1)", ARGUMENT, x, () -> x.clashes(-1));
     CHECK.fails("clashes(4)", ARGUMENT, x, () -> x.clashes(4));
-    Tablemaker sums = Check.grammar("A>AcA A>AdA A>e");
+    Used sums = Check.grammar("A>AcA A>AdA A>e");
     CHECK.due("sums", sums.clashes(1), 4);
     sums.rank(2, 1, 2);
     CHECK.due("one rank", sums.clashes(1), 3);
@@ -197,11 +197,11 @@ public final class TablesTest {
   }
 
   private static void promise27() {
-    Tablemaker x = Check.grammar("A>aA A>a A>Ab A>b");
+    Used x = Check.grammar("A>aA A>a A>Ab A>b");
     CHECK.due("clashes", x.clashes(0), 3);
     CHECK.due("the first is ahead of the second", x.clash(0, 0, 1) + " " + x.clash(0, 1, 1), "0 1");
     CHECK.due("the last", x.state(0, x.clash(0, 2, 0)), "A>aA. A>A.b");
-    Tablemaker y = Check.grammar("A>a A>B B>a B>aa C>c");
+    Used y = Check.grammar("A>a A>B B>a B>aa C>c");
     int state = y.action(0, 0, 0);
     CHECK.due("one sign has three actions", y.clash(0, 0, 2), 3);
     CHECK.due("its state", y.clash(0, 0, 0), state);
@@ -215,7 +215,7 @@ public final class TablesTest {
     CHECK.due("all clashes", y.clashes(0), 6);
     CHECK.due("at the end alone", y.clashes(3), 1);
     CHECK.due("at the end alone", y.clash(3, 0, 1), 5);
-    Tablemaker ring = Check.grammar("A>A A>a");
+    Used ring = Check.grammar("A>A A>a");
     CHECK.due("accept and reduce", ring.clash(1, 0, 2), 2);
     CHECK.due("accept and reduce: shift", ring.clash(1, 0, 3), -1);
     CHECK.due("accept and reduce: rule", ring.clash(1, 0, 4), 0);
@@ -228,24 +228,24 @@ public final class TablesTest {
   }
 
   private static void promise28() {
-    Tablemaker x = Check.grammar("A>aA A>b");
+    Used x = Check.grammar("A>aA A>b");
     String[] due = {"", "a", "b", "b", "ab"};
     for (int state = 0; state < 5; state++) {
       CHECK.due("beginning(0, " + state + ")", x.beginning(0, state), due[state]);
       CHECK.due("beginning(3, " + state + ")", x.beginning(3, state), due[state]);
     }
-    Tablemaker grows = Check.grammar("A>aA");
+    Used grows = Check.grammar("A>aA");
     CHECK.due("A does not grow", grows.beginning(1, 1), "none");
     CHECK.due("at the bottom", grows.beginning(1, 0), "");
-    Tablemaker y = Check.grammar("A>BcC A>bb B>da B>ce C>e B>dB C>");
+    Used y = Check.grammar("A>BcC A>bb B>da B>ce C>e B>dB C>");
     CHECK.due("fewer signs, then as in a dictionary", y.beginning(0, y.goes(0, 0, 1)), "ce");
     int behind = y.action(0, y.goes(0, 0, 1), 2);
     CHECK.due("what is hollow adds nothing", y.beginning(0, y.goes(0, behind, 2)), "cec");
-    Tablemaker ties = Check.grammar("A>aBb A>bBa A>BBc B>ac B>ab B>d");
+    Used ties = Check.grammar("A>aBb A>bBa A>BBc B>ac B>ab B>d");
     CHECK.due("ties go by letters", ties.beginning(0, ties.goes(0, ties.action(0, 0, 1), 1)), "bd");
-    Tablemaker two = Check.grammar("A>bBc A>aCc B>ae C>e C>Bd");
+    Used two = Check.grammar("A>bBc A>aCc B>ae C>e C>Bd");
     CHECK.due("two ways, one shorter", two.beginning(0, two.goes(0, two.action(0, 0, 0), 1)), "aae");
-    Tablemaker large = Check.grammar("E>BBBB A>DaC A>DDDD C>EEEE B>BA B>AaB B>CCCC A>AEc B>AAAA D>dade");
+    Used large = Check.grammar("E>BBBB A>DaC A>DDDD C>EEEE B>BA B>AaB B>CCCC A>AEc B>AAAA D>dade");
     int longest = 0;
     for (int state = 0; state < large.states(0); state++) {
       longest = Math.max(longest, large.beginning(0, state).length());
@@ -258,13 +258,13 @@ public final class TablesTest {
   }
 
   private static void promise29() {
-    Tablemaker x = Check.grammar("A>aA A>b");
+    Used x = Check.grammar("A>aA A>b");
     CHECK.due("rows of kind 0", x.ofTable(0, 1), 4);
     CHECK.due("actions of kind 0", x.ofTable(0, 2), 17);
     CHECK.due("rows of kind 1", x.ofTable(1, 1), 4);
     CHECK.due("actions of kind 1", x.ofTable(1, 2), 7);
     CHECK.due("none is settled", x.ofTable(0, 0), 0);
-    Tablemaker sums = Check.grammar("A>AcA A>e");
+    Used sums = Check.grammar("A>AcA A>e");
     CHECK.due("actions with a clash", sums.ofTable(1, 2), 7);
     CHECK.due("not settled", sums.ofTable(1, 0), 0);
     sums.rank(2, 3, 0);
@@ -280,7 +280,7 @@ public final class TablesTest {
   }
 
   private static void notThere() {
-    Tablemaker x = Check.grammar(FORTY_ONE);
+    Used x = Check.grammar(FORTY_ONE);
     for (int kind = 2; kind < 4; kind++) {
       int k = kind;
       CHECK.fails("state", INDEX, x, () -> x.state(k, 0));
