@@ -1913,7 +1913,9 @@ public final class Tablemaker {
           putLong(draft, layer, items << 1);
           all |= items;
         }
-        put(moves, state * SYMBOLS + symbol, all == 0 ? NONE : numberOfDraft());
+        // Found ahead of the put, as a new state may make the row another one.
+        int next = all == 0 ? NONE : numberOfDraft();
+        put(moves, state * SYMBOLS + symbol, next);
       }
     }
 

@@ -9,12 +9,15 @@ public final class ChangeEdgesTest {
 
   public static void main(String[] args) {
     changes();
+    thatBefore();
     changesAllTheSame();
     noChanges();
     eightCanBeUndone();
     theNinthForgets();
     undoneAndChanged();
     undoneAsAheadOfIt();
+    undoneWhenFull();
+    shelvesUndone();
     undoneAlone();
     nothingToUndo();
     undoIsNoChange();
@@ -44,11 +47,26 @@ public final class ChangeEdgesTest {
       Used x = small();
       String before = Check.shown(x);
       CHECK.due("call " + i, calls[i].on(x), due[i]);
+      int again = x.undo();
+      CHECK.due("call " + i + " once more", again + " " + calls[i].on(x), "3 " + due[i]);
       CHECK.due("call " + i + " is a change", x.house(3), 4);
       CHECK.due("call " + i + " changes something", Check.shown(x).equals(before), false);
       CHECK.due("call " + i + " is undone", x.undo(), 3);
       CHECK.due("call " + i + " is as it was", Check.shown(x), before);
     }
+  }
+
+  /** "Returns that before.", "Returns the RANK before." */
+  private static void thatBefore() {
+    Used x = small();
+    int[] acts = {3, 2, 1, 0, 3, 3};
+    int[] ranks = {9, 1, 8, 0, 5, 5};
+    for (int i = 0; i < acts.length; i++) {
+      CHECK.due("act", x.act(1, acts[i]), i == 0 ? 0 : acts[i - 1]);
+      CHECK.due("rank", x.rank(3, ranks[i], i % 3), i == 0 ? 0 : ranks[i - 1]);
+    }
+    CHECK.due("of another rule", x.act(0, 1), 0);
+    CHECK.due("of another sign", x.rank(2, 1, 1), 0);
   }
 
   /** "act(), rank() and shelve() also if all is as before" */
@@ -158,6 +176,54 @@ public final class ChangeEdgesTest {
     CHECK.due("and the rule", Check.shown(x), before);
   }
 
+  /** The tenth RULE, and the last SIGN, as they were: another one stood there meanwhile. */
+  private static void undoneWhenFull() {
+    String ten = "A>a A>b A>c A>d A>e B>a B>b B>c B>d E>abcd";
+    Used x = Check.grammar(ten);
+    x.act(9, 3);
+    x.rank(4, 9, 1);
+    String before = Check.rules(x) + all(x);
+    x.shelve();
+    x.drop(9);
+    Check.add(x, "D>dcba");
+    x.act(9, 1);
+    x.rank(4, 8, 2);
+    x.shelve();
+    for (int i = 0; i < 6; i++) {
+      x.undo();
+    }
+    CHECK.due("as before", Check.rules(x) + all(x), before);
+    CHECK.due("the tenth", x.text(9) + x.ofRule(9, 2), "E>abcd3");
+    CHECK.due("the last sign", x.rank(4, 0, 0), 9);
+  }
+
+  private static String all(Used x) {
+    StringBuilder row = new StringBuilder();
+    for (int rule = 0; rule < x.house(0); rule++) {
+      for (int what = 0; what < 5; what++) {
+        row.append(' ').append(x.ofRule(rule, what));
+      }
+    }
+    return row.toString();
+  }
+
+  /** What a SHELF of ten had, and what it has when that is undone. */
+  private static void shelvesUndone() {
+    Used x = Check.grammar("B>a B>b B>c B>d B>e C>a C>b C>c C>d A>e");
+    x.shelve();
+    x.drop(9);
+    Check.add(x, "A>d");
+    CHECK.due("two that differ", x.differ(1), "d");
+    x.shelve();
+    CHECK.due("two that are the same", x.differ(1), "none");
+    x.undo();
+    CHECK.due("the first shelf", x.differ(1), "d");
+    x.undo();
+    x.undo();
+    CHECK.due("the first grammar", x.differ(1), "none");
+    CHECK.due("its tenth", x.text(9), "A>e");
+  }
+
   /** What is typed, who knocked, and what is SHARED is not undone. */
   private static void undoneAlone() {
     Used x = Check.grammar("A>a");
@@ -263,6 +329,14 @@ public final class ChangeEdgesTest {
   private static void turned() {
     turnedBy("A>Aa A>b", 0, 1, "B>aB A>bB B>");
     turnedBy("A>Aa A>b B>c", 0, 2, "C>aC A>bC B>c C>");
+    turnedBy("B>c A>Aa A>b", 0, 2, "B>c C>aC A>bC C>");
+    turnedBy("B>AAAC A>Aa A>b", 0, 3, "B>AAAC D>aD A>bD D>");
+    for (int dropped = 0; dropped < 3; dropped++) {
+      Used x = Check.grammar("A>Aa A>b");
+      x.rule(dropped == 0 ? 1 : 2, 4, 0, 0, 0, dropped == 1 ? 6 : 0);
+      x.drop(2);
+      CHECK.due("what was the last is used no more", x.turn(0), 1);
+    }
     turnedBy("A>Aa A>b A>cccB", 0, -4, "A>Aa A>b A>cccB");
     turnedBy("A>Aa A>b A>AccB", 0, 2, "C>aC A>bC C>ccBC C>");
     turnedBy("A>Aa A>b E>DCB", 0, -4, "A>Aa A>b E>DCB");

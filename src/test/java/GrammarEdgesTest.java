@@ -13,6 +13,7 @@ public final class GrammarEdgesTest {
     grows();
     reached();
     useful();
+    leftOf();
     hollow();
     first();
     follow();
@@ -151,6 +152,13 @@ public final class GrammarEdgesTest {
     CHECK.due("the last of ten is needless", last.needless(), 1);
   }
 
+  /** "5 how many RULES it is LEFT of (of all)" */
+  private static void leftOf() {
+    asked("", 5, "0 0 0 0 0");
+    asked("E>EE D>d A>Ba B>b A>C D>D E>e", 5, "2 1 0 2 2");
+    asked("A>A A>B A>C A>D A>E A>a A>b A>c A>d A>e", 5, "10 0 0 0 0");
+  }
+
   /** "A VARIABLE is HOLLOW, if the empty TEXT COMES OF it." */
   private static void hollow() {
     asked("A>", 2, "1 0 0 0 0");
@@ -163,6 +171,7 @@ public final class GrammarEdgesTest {
     asked("A>CBBB B> C>c", 2, "0 1 0 0 0");
     asked(CHAIN + " E>", 2, "1 1 1 1 1");
     asked("E> " + BACKWARDS, 2, "1 1 1 1 1");
+    asked("A>aB A> B>AA", 2, "1 1 0 0 0");
     // By useful rules alone.
     asked("A>a B>", 2, "0 0 0 0 0");
     asked("A>a A>B B>B B>C", 2, "0 0 0 0 0");
@@ -227,6 +236,8 @@ public final class GrammarEdgesTest {
     ringOf(CHAIN + " E>e E>A", true);
     ringOf(BACKWARDS + " E>A A>a", true);
     ringOf("A>aB B>bC C>cD D>dE E>E E>e", true);
+    ringOf("A>aB A> B>AB B>b", true);
+    ringOf("A>aB A>b B>AB B>b", false);
     ringOf("A>a B>B B>b", false);
     ringOf("A>a A>C C>C", false);
     ringOf("A>aB B>AC B>b C>c C>", false);

@@ -38,6 +38,7 @@ public final class ReadingEdgesTest {
     sharedWithoutTwo();
     sharedUpTo();
     sharedWhenGone();
+    sharedWithTheLastAlone();
     sharedOfAll();
     pileAndSteps();
     treeAndValue();
@@ -430,6 +431,22 @@ public final class ReadingEdgesTest {
     Check.type(x, "b").begin(2);
     x.step();
     CHECK.due("a fourth as the third", x.shared(), 1);
+  }
+
+  /** The steps of one that was begun long ahead do not count. */
+  private static void sharedWithTheLastAlone() {
+    Used x = two("aab");
+    x.read(0);
+    x.read(0);
+    x.begin(0);
+    x.step();
+    x.step();
+    CHECK.due("two yet", x.shared(), 2);
+    x.read(0);
+    CHECK.due("two of all", x.shared(), 2);
+    x.begin(0);
+    x.read(0);
+    CHECK.due("none with one that has none", x.shared(), 0);
   }
 
   /** All 200 steps of one and all 200 of the other. */

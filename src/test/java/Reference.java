@@ -32,6 +32,17 @@ final class Reference {
     }
   }
 
+  /** One with these rules, written as texts. */
+  static Reference of(String rules) {
+    Reference out = new Reference();
+    for (String rule : rules.split(" ")) {
+      out.now.rules.add(new R(rule.charAt(0), rule.substring(2), 0));
+      out.past.add(out.now.copy());
+    }
+    while (out.past.size() > 8) out.past.remove(0);
+    return out;
+  }
+
   static final class Held {
     List<R> rules = new ArrayList<>();
     int[] ranks = new int[5];

@@ -29,6 +29,7 @@ public final class TableEdgesTest {
     rowsAndActions();
     beginnings();
     beginningsInOrder();
+    manyStates();
     usefulRulesAlone();
     CHECK.end();
   }
@@ -353,6 +354,9 @@ public final class TableEdgesTest {
     CHECK.due("no shift", x.clash(0, 0, 3), -1);
     Used last = Check.grammar("B>a C>a D>a A>bA A>Aa A>Aaa E>a A>b A>EE A>E");
     CHECK.due("the smallest rule is not 0", last.clash(1, 0, 4) > 0, true);
+    Used first = Check.grammar("A>BA A>a B> C>c");
+    CHECK.due("the first state, the first sign", first.clash(0, 0, 0) + " " + first.clash(0, 0, 1), "0 0");
+    CHECK.due("then the next sign", first.clash(0, 1, 0) > 0, true);
     Used accepts = Check.grammar("A>BA A>a B> C>c");
     CHECK.due("a shift and an empty rule", accepts.clash(1, 0, 2), 2);
     CHECK.due("the empty rule", accepts.clash(1, 0, 4), 2);
@@ -372,6 +376,12 @@ public final class TableEdgesTest {
       CHECK.due("rows of " + kind, x.ofTable(kind, 1), 7);
       CHECK.due("actions of " + kind, x.ofTable(kind, 2), 3 + 3 + 1 + 4 * (kind == 0 ? 6 : 1));
     }
+    Used alike = Check.grammar("A>bB A>cB B>a");
+    CHECK.due("alike, ahead of unlike ones", alike.ofTable(1, 1), 6);
+    Used first = Check.grammar("A>bB A>cC B>a C>a");
+    CHECK.due("unlike for a alone", first.ofTable(1, 1), 8);
+    Used end = Check.grammar("A>b A>c");
+    CHECK.due("unlike for END alone", end.ofTable(1, 1), 4);
     Used clash = Check.grammar("A>B A> B>");
     CHECK.due("a row with a clash", clash.ofTable(1, 1), 3);
     CHECK.due("a clash is no action here", clash.ofTable(1, 2), 2);
@@ -402,6 +412,11 @@ public final class TableEdgesTest {
     int state = x.action(0, x.action(0, 0, 4), 3);
     CHECK.due("C>d.", x.state(0, state), "C>d.");
     CHECK.due("fewer signs, then as in a dictionary", x.beginning(0, state), "bd");
+    // A sign and a variable lead there; the sign's number is less, but the variable's text is ahead.
+    Used tie = Check.grammar("A>bC A>BC B>a C>c");
+    CHECK.due("of two that are as long", tie.beginning(0, tie.action(0, tie.goes(0, 0, 1), 2)), "ac");
+    Used late = Check.grammar("A>aeC A>BC B>ad C>c");
+    CHECK.due("by the last letter", late.beginning(0, late.action(0, late.goes(0, 0, 1), 2)), "adc");
     Used y = Check.grammar("A>BBd B>ba B>ab B>ccc");
     CHECK.due("the first text of each", y.beginning(0, y.goes(0, y.goes(0, 0, 1), 1)), "abab");
     Used z = Check.grammar("A>BD A>bbbD B>c B>aa D>dE E>e E>");
@@ -409,6 +424,36 @@ public final class TableEdgesTest {
     CHECK.due("through a variable", z.beginning(1, behind), "cd");
     CHECK.due("what is hollow is nothing", z.beginning(1, z.goes(1, behind, 4)), "cd");
     CHECK.due("what a sign leads to", z.beginning(1, z.action(1, behind, 4)), "cde");
+  }
+
+  /** No sentence bounds the STATES without LOOKS: as many as a search found are all there. */
+  private static void manyStates() {
+    String rules = "E>abae E>dBAB C>dEed A>aeA E>BDBC B>dddA A>dDE D>dddC E>e B>BdBD";
+    Used x = Check.grammar(rules);
+    Reference due = Reference.of(rules);
+    CHECK.due("states", x.states(0), 162);
+    CHECK.due("no looks", x.states(3), -5);
+    for (int kind = 0; kind < 2; kind++) {
+      for (int state = 0; state < 162; state++) {
+        String what = " of " + kind + ", " + state;
+        CHECK.due("state" + what, x.state(kind, state), due.state(kind, state));
+        CHECK.due("beginning" + what, x.beginning(kind, state), due.beginning(kind, state));
+        for (int sign = 0; sign < 6; sign++) {
+          CHECK.due("action" + what, x.action(kind, state, sign), due.action(kind, state, sign));
+        }
+        for (int variable = 0; variable < 5; variable++) {
+          CHECK.due("goes" + what, x.goes(kind, state, variable), due.goes(kind, state, variable));
+        }
+        for (int rule = 0; rule < 10; rule++) {
+          CHECK.due("looks" + what, x.looks(kind, state, rule), due.looks(kind, state, rule));
+        }
+      }
+      for (int what = 0; what < 3; what++) {
+        CHECK.due("all of " + kind, x.ofTable(kind, what), due.ofTable(kind, what));
+      }
+      CHECK.due("clashes of " + kind, x.clashes(kind), due.clashes(kind));
+    }
+    CHECK.due("digest", x.digest(), due.digest());
   }
 
   /** "All that follows is by USEFUL RULES alone, if nothing else is said." */

@@ -71,6 +71,11 @@ public final class TextEdgesTest {
     CHECK.due("behind the first", y.nexts(1), 3);
     CHECK.fails("behind that", INDEX, y, () -> y.nexts(3));
     CHECK.fails("ahead of all", INDEX, y, () -> y.nexts(-1));
+    CHECK.due("through five, downwards", Check.grammar("A>B B>C C>D D>E E>b").nexts(0), 2);
+    CHECK.due("through five, upwards", Check.grammar("A>E E>D D>C C>B B>b").nexts(0), 2);
+    CHECK.due("through five that are hollow", Check.grammar("A>Ea E>D D>C C>B B>").nexts(0), 1);
+    CHECK.due("behind five", typed("A>E E>D D>C C>B B>b", "b").nexts(1), 32);
+    CHECK.due("behind five that are hollow", typed("A>aE E>D D>C C>B B> B>e", "a").nexts(1), 48);
     Used dead = Check.grammar("A>aB A>bC A>c C>C B>e");
     CHECK.due("only what comes to a sentence", dead.nexts(0), 5);
   }
@@ -233,6 +238,11 @@ public final class TextEdgesTest {
     Used three = Check.grammar("A>AA A>e A>d");
     CHECK.due("two signs have one tree each", three.twin(2), "none");
     CHECK.due("three signs have two", three.twin(3), "ddd");
+    String[] next = {"A>a A>B B>a", "A>aa A>B B>aa", "A>aaa A>B B>aaa"};
+    for (int i = 0; i < 3; i++) {
+      CHECK.due("the next length is not asked for", Check.grammar(next[i]).twin(i), "none");
+      CHECK.due("that length is", Check.grammar(next[i]).twin(i + 1), "aaa".substring(0, i + 1));
+    }
     Used empty = Check.grammar("A>B A>C B> C>");
     CHECK.due("of no sign", empty.twin(0), "");
     CHECK.due("with far more than two", Check.grammar(MILLION).twin(0), "");
@@ -263,6 +273,10 @@ public final class TextEdgesTest {
     x.undo();
     x.undo();
     CHECK.due("the shelf is undone", x.differ(3), "eee");
+    String[] next = {"A>a", "A>aa", "A>aaa", "A>aaaa"};
+    for (int i = 0; i < 4; i++) {
+      CHECK.due("the next length is not asked for", Check.grammar(next[i]).differ(i), "none");
+    }
     Used both = Check.grammar("A>b");
     both.shelve();
     both.drop(0);
@@ -284,6 +298,11 @@ public final class TextEdgesTest {
     x.shelve();
     x.drop(2);
     CHECK.due("useful there, not here", x.differ(2), "bc");
+    Used hollow = Check.grammar("A>a");
+    hollow.shelve();
+    Check.add(hollow, "B>");
+    Check.add(hollow, "E>");
+    CHECK.due("not useful, but hollow", hollow.differ(3), "none");
     Used ring = Check.grammar("A>A A>a");
     ring.shelve();
     ring.drop(0);
@@ -445,6 +464,15 @@ public final class TextEdgesTest {
     CHECK.due("digest", x.digest(), unbound(x).longValue());
     Used ring = Check.grammar("A>A A>");
     CHECK.due("digest with a ring", ring.digest(), unbound(ring).longValue());
+    // What has three signs, or more, is not asked for.
+    Used three = Check.grammar("A>AA A>a");
+    three.shelve();
+    Check.add(three, "A>bbb");
+    CHECK.due("twin and differ of 3", three.twin(3) + three.differ(3), "aaabbb");
+    CHECK.due("digest of 2 signs", three.digest(), unbound(three).longValue());
+    Used two = Check.grammar("A>B B>aa A>aa");
+    CHECK.due("twin and differ of 2", two.twin(2) + two.differ(2), "aaaa");
+    CHECK.due("digest of 2 signs", two.digest(), unbound(two).longValue());
     Used million = Check.grammar(MILLION + " A>");
     CHECK.due("digest with more than a million", million.digest(), unbound(million).longValue());
   }
