@@ -433,7 +433,6 @@ public final class Tablemaker {
 
   public int sentences(int length) throws IllegalArgumentException {
     checkLength(length);
-    prepareFacts();
     prepareCensus();
     return census.countSentences(length);
   }
@@ -442,7 +441,6 @@ public final class Tablemaker {
     if (nth < 0) {
       throw new IllegalArgumentException("below 0");
     }
-    prepareFacts();
     prepareCensus();
     return pageOf(census.findSentence(nth));
   }
@@ -456,7 +454,6 @@ public final class Tablemaker {
 
   public String differ(int length) throws IllegalArgumentException {
     checkLength(length);
-    prepareFacts();
     prepareCensus();
     prepareShelfCensus();
     return pageOf(findDifference(length));
