@@ -86,6 +86,11 @@ public final class FaceTest {
       }
     }
     check.due("methods", got, due);
+    for (Method m : type.getDeclaredMethods()) {
+      if (Modifier.isPrivate(m.getModifiers())) {
+        check.due(m + " bears a name of the face", names.contains(m.getName()), false);
+      }
+    }
     check.due("class", Modifier.toString(type.getModifiers()), "public final");
     check.due("constructors", type.getDeclaredConstructors().length, 1);
     Constructor<?> made = type.getDeclaredConstructors()[0];

@@ -30,7 +30,7 @@ public final class ReferenceTest {
     "A>BC B>CA B>b C>AB C>a",
     "A>Bb A>Cc B>aB B>a C>aC C>a",
     // Many states without looks, and long beginnings.
-    "E>abae E>dBAB C>dEed A>aeA E>BDBC B>dddA A>dDE D>dddC E>e B>BdBD",
+    "E>abae E>dBAB C>dEed A>aeA E>BDBC B>dddA A>dDE D>dddC E>d B>BdBC",
     "E>BBBB A>DaC A>DDDD C>EEEE B>BA B>AaB B>CCCC A>AEc B>AAAA D>dade",
     // Just 40 and 41 states with looks.
     "A>AcB A>B B>BeC B>C C>aAa C>e C>bE E>aE E>c C>caaa",

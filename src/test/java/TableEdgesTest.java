@@ -402,8 +402,8 @@ public final class TableEdgesTest {
     CHECK.due("also others have none of length", hollow.beginning(1, hollow.goes(1, 0, 1)), "");
     CHECK.due("also where A comes to nothing", hollow.beginning(1, hollow.goes(1, 0, 0)), "");
     Used five = Check.grammar("A>BBBB B>CCCC C>DDDD D>EEEE E>aaaa");
-    CHECK.due("the longest text of A", five.beginning(0, five.goes(0, 0, 0)).length(), 1024);
-    CHECK.due("with looks", five.beginning(3, five.goes(3, 0, 0)).length(), 1024);
+    CHECK.due("the longest text of A", five.beginning(0, five.goes(0, 0, 0)), "a".repeat(1024));
+    CHECK.due("with looks", five.beginning(3, five.goes(3, 0, 0)), "a".repeat(1024));
   }
 
   /** "the first TEXT, by their order, that COMES OF a row of SYMBOLS which leads .. to it" */
@@ -417,6 +417,8 @@ public final class TableEdgesTest {
     CHECK.due("of two that are as long", tie.beginning(0, tie.action(0, tie.goes(0, 0, 1), 2)), "ac");
     Used late = Check.grammar("A>aeC A>BC B>ad C>c");
     CHECK.due("by the last letter", late.beginning(0, late.action(0, late.goes(0, 0, 1), 2)), "adc");
+    longTie("A>dddd E>AAAA D>EEEE A>DeB A>DCB C>a B>b", "ab");
+    longTie("A>dddd E>AAAA D>EEEE A>DaB A>DCB C>e B>b", "ab");
     Used y = Check.grammar("A>BBd B>ba B>ab B>ccc");
     CHECK.due("the first text of each", y.beginning(0, y.goes(0, y.goes(0, 0, 1), 1)), "abab");
     Used z = Check.grammar("A>BD A>bbbD B>c B>aa D>dE E>e E>");
@@ -426,27 +428,33 @@ public final class TableEdgesTest {
     CHECK.due("what a sign leads to", z.beginning(1, z.action(1, behind, 4)), "cde");
   }
 
+  /** Two ways that lead to one state, unlike only behind 64 signs. */
+  private static void longTie(String rules, String end) {
+    Used x = Check.grammar(rules);
+    int found = 0;
+    for (int state = 0; state < x.states(0); state++) {
+      if (x.state(0, state).equals("B>b.")) {
+        CHECK.due("the one that is ahead", x.beginning(0, state), "d".repeat(64) + end);
+        found++;
+      }
+    }
+    CHECK.due("one state", found, 1);
+  }
+
   /** No sentence bounds the STATES without LOOKS: as many as a search found are all there. */
   private static void manyStates() {
-    String rules = "E>abae E>dBAB C>dEed A>aeA E>BDBC B>dddA A>dDE D>dddC E>e B>BdBD";
+    manyStatesOf("E>abae E>dBAB C>dEed A>aeA E>BDBC B>dddA A>dDE D>dddC E>d B>BdBC", 172);
+    manyStatesOf("C>abae E>dBAB C>dEed A>aeA E>BDBC B>dddA A>dDE D>dddC E> B>BdBD", 161);
+  }
+
+  private static void manyStatesOf(String rules, int many) {
     Used x = Check.grammar(rules);
     Reference due = Reference.of(rules);
-    CHECK.due("states", x.states(0), 162);
+    CHECK.due("states", x.states(0), many);
     CHECK.due("no looks", x.states(3), -5);
     for (int kind = 0; kind < 2; kind++) {
-      for (int state = 0; state < 162; state++) {
-        String what = " of " + kind + ", " + state;
-        CHECK.due("state" + what, x.state(kind, state), due.state(kind, state));
-        CHECK.due("beginning" + what, x.beginning(kind, state), due.beginning(kind, state));
-        for (int sign = 0; sign < 6; sign++) {
-          CHECK.due("action" + what, x.action(kind, state, sign), due.action(kind, state, sign));
-        }
-        for (int variable = 0; variable < 5; variable++) {
-          CHECK.due("goes" + what, x.goes(kind, state, variable), due.goes(kind, state, variable));
-        }
-        for (int rule = 0; rule < 10; rule++) {
-          CHECK.due("looks" + what, x.looks(kind, state, rule), due.looks(kind, state, rule));
-        }
+      for (int state = 0; state < many; state++) {
+        sameState(x, due, kind, state);
       }
       for (int what = 0; what < 3; what++) {
         CHECK.due("all of " + kind, x.ofTable(kind, what), due.ofTable(kind, what));
@@ -454,6 +462,21 @@ public final class TableEdgesTest {
       CHECK.due("clashes of " + kind, x.clashes(kind), due.clashes(kind));
     }
     CHECK.due("digest", x.digest(), due.digest());
+  }
+
+  private static void sameState(Used x, Reference due, int kind, int state) {
+    String what = " of " + kind + ", " + state;
+    CHECK.due("state" + what, x.state(kind, state), due.state(kind, state));
+    CHECK.due("beginning" + what, x.beginning(kind, state), due.beginning(kind, state));
+    for (int sign = 0; sign < 6; sign++) {
+      CHECK.due("action" + what, x.action(kind, state, sign), due.action(kind, state, sign));
+    }
+    for (int variable = 0; variable < 5; variable++) {
+      CHECK.due("goes" + what, x.goes(kind, state, variable), due.goes(kind, state, variable));
+    }
+    for (int rule = 0; rule < 10; rule++) {
+      CHECK.due("looks" + what, x.looks(kind, state, rule), due.looks(kind, state, rule));
+    }
   }
 
   /** "All that follows is by USEFUL RULES alone, if nothing else is said." */
