@@ -22,6 +22,7 @@ public final class ChangeEdgesTest {
     nothingToUndo();
     undoIsNoChange();
     knocks();
+    callsInAll();
     shelfAtFirst();
     shelfOfTen();
     dropped();
@@ -268,6 +269,31 @@ public final class ChangeEdgesTest {
     }
     CHECK.due("all", x.house(8), 300);
     CHECK.due("others have none", new Used().house(8), 0);
+  }
+
+  /** "An object is used for at most 512 calls after it has been made": the 512th is answered, too. */
+  private static void callsInAll() {
+    Tablemaker knocked = new Tablemaker();
+    for (int i = 1; i <= 512; i++) {
+      CHECK.due("knock " + i, knocked.knock(), i);
+    }
+    Tablemaker changed = new Tablemaker();
+    for (int i = 0; i < 504; i++) {
+      CHECK.due("rank " + i, changed.rank(1, i % 10, 0), i == 0 ? 0 : (i - 1) % 10);
+    }
+    for (int i = 7; i >= 0; i--) {
+      CHECK.due("undo", changed.undo(), i);
+    }
+    Tablemaker read = new Tablemaker();
+    read.rule(0, 0, 0, 0, 0, 0);
+    for (int i = 1; i < 512; i++) {
+      CHECK.due("read " + i, i % 2 == 0 ? read.shelve() : read.read(i % 4), i % 2 == 0 ? 1 : 2);
+    }
+    Tablemaker digested = new Tablemaker();
+    long first = digested.digest();
+    for (int i = 1; i < 512; i++) {
+      CHECK.due("digest " + i, digested.digest(), first);
+    }
   }
 
   /** "The SHELF has a grammar (without RULES at first)." */
