@@ -17,6 +17,7 @@ public final class ChangeEdgesTest {
     undoneAndChanged();
     undoneAsAheadOfIt();
     undoneWhenFull();
+    undoneSides();
     shelvesUndone();
     undoneAlone();
     nothingToUndo();
@@ -31,6 +32,7 @@ public final class ChangeEdgesTest {
     turnedIntoFour();
     turnedFromNine();
     turnedVariables();
+    turnedWhereOthersStood();
     unfit();
     CHECK.end();
   }
@@ -196,6 +198,30 @@ public final class ChangeEdgesTest {
     CHECK.due("as before", Check.rules(x) + all(x), before);
     CHECK.due("the tenth", x.text(9) + x.ofRule(9, 2), "E>abcd3");
     CHECK.due("the last sign", x.rank(4, 0, 0), 9);
+  }
+
+  /** RANK and SIDE of each SIGN, told apart by what is SETTLED: reduce, shift or none. */
+  private static void undoneSides() {
+    for (int sign = 0; sign < 5; sign++) {
+      char letter = (char) ('a' + sign);
+      Used x = Check.grammar("A>A" + letter + "A A>" + (sign == 0 ? "b" : "a"));
+      int shift = x.action(1, x.goes(1, 0, 0), sign);
+      int behind = x.goes(1, shift, 0);
+      int[] due = {-10, shift, -1};
+      for (int side = 0; side < 3; side++) {
+        x.rank(sign, 5, side);
+        CHECK.due("side " + side, x.action(1, behind, sign), due[side]);
+        for (int other = 0; other < 3; other++) {
+          x.rank(sign, 6 + other, other);
+          CHECK.due("side " + other, x.action(1, behind, sign), due[other]);
+          x.undo();
+          CHECK.due("side of " + letter + " is back", x.action(1, behind, sign), due[side]);
+          CHECK.due("rank of " + letter + " is back", x.ofRule(0, 3), 5);
+        }
+        x.undo();
+        CHECK.due("no rank, a clash", x.action(1, behind, sign), -3);
+      }
+    }
   }
 
   private static String all(Used x) {
@@ -420,6 +446,29 @@ public final class ChangeEdgesTest {
     turnedBy("A>b D>Dd D>D", 3, -4, "A>b D>Dd D>D");
     turnedBy("A>b D>Dd D>E", 3, 1, "A>b B>dB D>EB B>");
     turnedBy("A>b D>Dd D>E B>C", 3, -4, "A>b D>Dd D>E B>C");
+  }
+
+  /** What a rule had that stood at the same place before does not count. */
+  private static void turnedWhereOthersStood() {
+    turnedAfter("A>b A>Aa", "A>", -4, "A>b A>");
+    turnedAfter("A>Aa A>A", "A>b", 1, "B>aB A>bB B>");
+    turnedAfter("A>Aa A>bB", "A>b", 1, "B>aB A>bB B>");
+    turnedAfter("A>Aa A>bbB", "A>bb", 1, "B>aB A>bbB B>");
+    turnedAfter("A>Aa A>bbbB", "A>b", 1, "B>aB A>bB B>");
+    turnedAfter("A>Aa A>B", "A>", 1, "B>aB A>B B>");
+    Used x = Check.grammar("A>Aa A>b");
+    x.turn(0);
+    x.undo();
+    CHECK.due("turned, undone and turned", x.turn(0) + Check.rules(x), "1B>aB A>bB B>");
+  }
+
+  /** Another rule takes the place of the last one. */
+  private static void turnedAfter(String rules, String last, int due, String after) {
+    Used x = Check.grammar(rules);
+    x.drop(x.house(0) - 1);
+    Check.add(x, last);
+    CHECK.due("turn by " + rules + ", then " + last, x.turn(0), due);
+    CHECK.due("rules of " + rules + ", then " + last, Check.rules(x), after);
   }
 
   /** "UNFIT, if no RULE of V begins with V, or all do, or one is just V, or .." */

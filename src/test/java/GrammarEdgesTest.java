@@ -21,6 +21,8 @@ public final class GrammarEdgesTest {
     ring();
     textsAreOrdered();
     shortestOfFive();
+    longestOfFive();
+    whereOthersStood();
     rankOfRules();
     actsAtFirst();
     valuesOfSigns();
@@ -279,6 +281,48 @@ public final class GrammarEdgesTest {
     CHECK.due("none for what is not reached", less.shortest(1), "none");
     CHECK.due("none for what does not grow", less.shortest(2), "none");
     CHECK.due("none for what has no rule", less.shortest(4), "none");
+  }
+
+  /** Each VARIABLE once as the one on top of five, with 4 * 4 * 4 * 4 * 4 SIGNS. */
+  private static void longestOfFive() {
+    for (int top = 0; top < 5; top++) {
+      StringBuilder rules = new StringBuilder();
+      for (int down = 0; down < 5; down++) {
+        char part = down == 4 ? 'e' : variable(top + down + 1);
+        rules.append(variable(top + down)).append('>').append(("" + part).repeat(4)).append(' ');
+      }
+      Used x = Check.grammar(rules + (top == 0 ? "A>eeeA" : "A>" + variable(top)));
+      for (int down = 0; down < 5; down++) {
+        String due = "e".repeat(1024 >> 2 * down);
+        CHECK.due("shortest of " + variable(top + down), x.shortest((top + down) % 5), due);
+      }
+      for (int kind = 0; kind < 2; kind++) {
+        int state = x.goes(kind, 0, top);
+        CHECK.due("beginning by " + rules, x.beginning(kind, state), "e".repeat(1024));
+      }
+    }
+  }
+
+  private static char variable(int number) {
+    return (char) ('A' + number % 5);
+  }
+
+  /** What a RULE had that stood at the same place before does not count. */
+  private static void whereOthersStood() {
+    Used x = Check.grammar("A>aBCD B>b C>c D>d A>BCDE");
+    x.drop(4);
+    Check.add(x, "A>e");
+    CHECK.due("E is not reached", all(x, 1), "1 1 1 1 0");
+    CHECK.due("FOLLOW", all(x, 4), "32 4 8 32 0");
+    CHECK.due("FIRST", all(x, 3), "17 2 4 8 0");
+    x.drop(4);
+    Check.add(x, "A>");
+    CHECK.due("HOLLOW", all(x, 2), "1 0 0 0 0");
+    CHECK.due("FIRST", all(x, 3), "1 2 4 8 0");
+    CHECK.due("shortest", x.shortest(0), "");
+    CHECK.due("no ring", x.hasRing(), false);
+    x.drop(0);
+    CHECK.due("all but one are needless", x.needless() + Check.rules(x), "3A>");
   }
 
   /** "RANK (0 to 9, at first 0)" and "that of the last SIGN of RIGHT (0 without one)" */

@@ -30,6 +30,8 @@ public final class TableEdgesTest {
     beginnings();
     beginningsInOrder();
     manyStates();
+    manyMoreStates();
+    onTheWayToMany();
     usefulRulesAlone();
     CHECK.end();
   }
@@ -404,6 +406,11 @@ public final class TableEdgesTest {
     Used five = Check.grammar("A>BBBB B>CCCC C>DDDD D>EEEE E>aaaa");
     CHECK.due("the longest text of A", five.beginning(0, five.goes(0, 0, 0)), "a".repeat(1024));
     CHECK.due("with looks", five.beginning(3, five.goes(3, 0, 0)), "a".repeat(1024));
+    // No two states here have beginnings that are as long, and longer than 64.
+    Used alone = Check.grammar("A>c A>BBd B>DDDD D>EEEE E>aaaa");
+    int behind = alone.goes(1, alone.goes(1, 0, 1), 1);
+    CHECK.due("of two that are long", alone.beginning(1, behind), "a".repeat(128));
+    CHECK.due("and a sign", alone.beginning(1, alone.action(1, behind, 3)), "a".repeat(128) + "d");
   }
 
   /** "the first TEXT, by their order, that COMES OF a row of SYMBOLS which leads .. to it" */
@@ -417,6 +424,7 @@ public final class TableEdgesTest {
     CHECK.due("of two that are as long", tie.beginning(0, tie.action(0, tie.goes(0, 0, 1), 2)), "ac");
     Used late = Check.grammar("A>aeC A>BC B>ad C>c");
     CHECK.due("by the last letter", late.beginning(0, late.action(0, late.goes(0, 0, 1), 2)), "adc");
+    farBeginnings("B>cCCC C>BBBA E>aDDD A>dbed A>BBBD C>BBEc D>eAAA E>BBBA D>BBBC C>EEEE", 39924);
     longTie("A>dddd E>AAAA D>EEEE A>DeB A>DCB C>a B>b", "ab");
     longTie("A>dddd E>AAAA D>EEEE A>DaB A>DCB C>e B>b", "ab");
     Used y = Check.grammar("A>BBd B>ba B>ab B>ccc");
@@ -426,6 +434,19 @@ public final class TableEdgesTest {
     CHECK.due("through a variable", z.beginning(1, behind), "cd");
     CHECK.due("what is hollow is nothing", z.beginning(1, z.goes(1, behind, 4)), "cd");
     CHECK.due("what a sign leads to", z.beginning(1, z.action(1, behind, 4)), "cde");
+  }
+
+  /** No sentence bounds how many SIGNS a BEGINNING has: this is the most that a search found. */
+  private static void farBeginnings(String rules, int most) {
+    Used x = Check.grammar(rules);
+    String[] due = Reference.of(rules).tables().beginnings(0);
+    int longest = 0;
+    for (int state = 0; state < x.states(0); state++) {
+      String got = x.beginning(0, state);
+      CHECK.due("beginning of " + state, got.equals(due[state]), true);
+      longest = Math.max(longest, got.length());
+    }
+    CHECK.due("the longest", longest, most);
   }
 
   /** Two ways that lead to one state, unlike only behind 64 signs. */
@@ -441,10 +462,56 @@ public final class TableEdgesTest {
     CHECK.due("one state", found, 1);
   }
 
-  /** No sentence bounds the STATES without LOOKS: as many as a search found are all there. */
+  /** No sentence bounds the STATES without LOOKS: all of them are there, however many there are. */
   private static void manyStates() {
     manyStatesOf("E>abae E>dBAB C>dEed A>aeA E>BDBC B>dddA A>dDE D>dddC E>d B>BdBC", 172);
     manyStatesOf("C>abae E>dBAB C>dEed A>aeA E>BDBC B>dddA A>dDE D>dddC E> B>BdBD", 161);
+  }
+
+  /** Just as many as fit in rows of some lengths, and one more; and the most that a search found. */
+  private static void manyMoreStates() {
+    countedStates("A>DDBB D>aCaC A>abbA B>DbbB C>DbBB B>aAbA D>bbbb A>DBDB B>DAbB B>bbbD", 64);
+    countedStates("A>DDBB D>aCaA A>aBbA B>DbbB C>DbBB C>aAbA A>bbbb A>AABD B>DAbB B>bbbD", 65);
+    countedStates("A>aCbB D>aaCa B>bCAA C>bbab C>bDbA C>aaaB C>aabB B>aaaD C>baaB D>Abab", 128);
+    countedStates("C>abaA A>baCa D>aDAb C>bDaA B>abCD B>bAbC A>bbbb A>abBb D>bbBb D>AbaA", 129);
+    countedStates("B>bbaC C>bbBB A>bbbD D>bbbC C>aaab D>babA B>aAaA C>abDb B>bbAC B>ABbb", 256);
+    countedStates("B>aABc C>abaC A>abbA B>abaa B>baBc C>bbbB C>abBa B>bbCA A>babC A>bbbA", 257);
+    countedStates("A>bbbA D>bbaA A>babD D>bbbB B>bbbC C>bbaB B>ba C>bbbD C>abAa B>bbCA", 512);
+    countedStates("A>bbbA D>bbaA A>babD D>bbbB B>bbbC C>bbaB D>ba C>bbbD D>abbA B>bbCC", 513);
+    countedStates("B>acaA D>acaB B>cacC D>ccac A>acDb A>caCB C>cacA C>acaD D>aBBa D>cacB", 918);
+  }
+
+  private static void countedStates(String rules, int many) {
+    Used x = Check.grammar(rules);
+    Reference due = Reference.of(rules);
+    CHECK.due("states by " + rules, x.states(1), many);
+    for (int state : new int[] {0, 1, many / 2, many - 2, many - 1}) {
+      sameState(x, due, 0, state);
+      sameState(x, due, 1, state);
+    }
+    CHECK.fails("one more by " + rules, INDEX, x, () -> x.state(1, many));
+    CHECK.due("digest by " + rules, x.digest(), due.digest());
+  }
+
+  /** States grow with each rule, and are fewer again. */
+  private static void onTheWayToMany() {
+    String[] rules = "D>ccac D>aBBa B>acaA A>acDb A>caCB C>cacA D>acaB B>cacC C>acaD D>cacB".split(" ");
+    Used x = new Used();
+    Reference due = new Reference();
+    for (String rule : rules) {
+      Check.add(x, rule);
+      int[] right = new int[4];
+      for (int i = 0; i < 4; i++) {
+        right[i] = "abcdeABCDE".indexOf(rule.charAt(i + 2));
+      }
+      due.rule(rule.charAt(0) - 'A', 4, right[0], right[1], right[2], right[3]);
+      CHECK.due("digest with " + rule, x.digest(), due.digest());
+    }
+    for (int i = 0; i < 6; i++) {
+      CHECK.due("undone", x.undo(), due.undo());
+      CHECK.due("states", x.states(0), due.states(0));
+      CHECK.due("digest, undone", x.digest(), due.digest());
+    }
   }
 
   private static void manyStatesOf(String rules, int many) {

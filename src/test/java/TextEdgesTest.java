@@ -34,6 +34,7 @@ public final class TextEdgesTest {
     differencesByUsefulRules();
     houses();
     sound();
+    soundIfSettled();
     soundIfEndless();
     digestStarts();
     digestWraps();
@@ -341,6 +342,23 @@ public final class TextEdgesTest {
   }
 
   /** "of which read() would not tell ENDLESS" */
+  /** "and nothing of it is SETTLED": a table may then read what is no sentence's, or none of two trees. */
+  private static void soundIfSettled() {
+    Used wrong = Check.grammar("A>a A>aB B>a");
+    wrong.rank(0, 1, 0);
+    CHECK.due("kind 0 has no clash", wrong.clashes(0) + " " + wrong.ofTable(0, 0), "0 1");
+    CHECK.due("and refuses a sentence", Check.type(wrong, "aa").read(0), -101);
+    CHECK.due("is settled", wrong.isSound(), true);
+    Used two = Check.grammar("A>Aa A>aA A>a");
+    two.rank(0, 1, 0);
+    for (int kind = 1; kind < 4; kind++) {
+      CHECK.due("no clash in " + kind, two.clashes(kind), 0);
+      CHECK.due("settled in " + kind, two.ofTable(kind, 0) > 0, true);
+    }
+    CHECK.due("has two trees", two.twin(2), "aa");
+    CHECK.due("is settled", two.isSound(), true);
+  }
+
   private static void soundIfEndless() {
     Used x = Check.grammar("A>BBBB B>CCCC C>DDDD D>EEEE E>");
     CHECK.due("endless", x.read(0), -6);
